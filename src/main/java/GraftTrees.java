@@ -105,17 +105,17 @@ public final class GraftTrees {
     private int taped = 0;
     private int faultNumber = 0;
     private int faultPlace = NONE;
+    private final Cells cells = new Cells();
     private final House house;
     private final Shapes shapes;
     private final Parser parser;
     private final Machine machine;
 
     public GraftTrees(int threshold) {
-        Cells cells = new Cells();
         house = new House(cells, Math.max(1, Math.min(threshold, THRESHOLD_MOST)));
         shapes = new Shapes(cells);
         parser = new Parser(cells, house);
-        machine = new Machine(cells, house, shapes, parser);
+        machine = new Machine(cells, house, shapes);
     }
 
     public int feed(int a, int b, int c, int d, int e) {
@@ -172,7 +172,17 @@ public final class GraftTrees {
     }
 
     public int run(int n) {
-        return n < 1 ? 0 : machine.go(n);
+        int made = n < 1 ? 0 : machine.go(n);
+        for (int i = 0; i < ROOTS_MOST && machine.isDefining(); i++) {
+            parser.tokens.scan(cells.cell, machine.definingFrom() + 1, cells.cell[machine.definingFrom()]);
+            int functions = parser.pass(false);
+            if (machine.mayDefine(functions, parser.tokens.faultNumber)) {
+                parser.pass(true);
+                machine.answerDefine();
+            }
+            made += machine.go(n - made);
+        }
+        return made;
     }
 
     public int state() {
@@ -296,12 +306,15 @@ public final class GraftTrees {
         private final int[] kinds = new int[TAPE_MOST + 1];
         private final int[] places = new int[TAPE_MOST + 1];
         private final int[] sizes = new int[TAPE_MOST + 1];
+        private final int[] words = new int[TAPE_MOST + 1];
         private int count = 0;
         private int next = 0;
         // The TOKEN that is ahead.
         int kind = FINISH;
         int place = 0;
         int size = 0;
+        // Where its letters stand first among the NAMES of the TEXT: alike of all NAMES that are the same.
+        int word = 0;
         int faultNumber = 0;
         int faultPlace = NONE;
 
@@ -322,8 +335,26 @@ public final class GraftTrees {
                 if (last == BROKEN) {
                     places[count] = at;
                 }
+                words[count] = last == A_NAME ? firstPlace() : NONE;
                 count++;
             }
+        }
+
+        private int firstPlace() {
+            for (int i = 0; i < count; i++) {
+                if (kinds[i] == A_NAME && sizes[i] == sizes[count] && sameBytes(places[i], places[count], sizes[i])) {
+                    return places[i];
+                }
+            }
+            return places[count];
+        }
+
+        private boolean sameBytes(int placeA, int placeB, int bytes) {
+            boolean same = true;
+            for (int i = 0; same && i < bytes; i++) {
+                same = byteAt(placeA + i) == byteAt(placeB + i);
+            }
+            return same;
         }
 
         void rewind() {
@@ -341,6 +372,7 @@ public final class GraftTrees {
             kind = kinds[next];
             place = places[next];
             size = sizes[next];
+            word = words[next];
             next++;
             if (kind == BROKEN) {
                 faultNumber = 1;
@@ -354,14 +386,6 @@ public final class GraftTrees {
                 faultPlace = where;
                 kind = BROKEN;
             }
-        }
-
-        boolean sameBytes(int placeA, int sizeA, int placeB, int sizeB) {
-            boolean same = sizeA == sizeB;
-            for (int i = 0; same && i < sizeA; i++) {
-                same = byteAt(placeA + i) == byteAt(placeB + i);
-            }
-            return same;
         }
 
         private int byteAt(int i) {
@@ -498,6 +522,7 @@ public final class GraftTrees {
         private final int[] kind = new int[NODES_MOST];
         private final int[] place = new int[NODES_MOST];
         private final int[] size = new int[NODES_MOST];
+        private final int[] word = new int[NODES_MOST];
         private final int[] extra = new int[NODES_MOST];
         private final long[] value = new long[NODES_MOST];
         private final int[] next = new int[NODES_MOST];
@@ -505,8 +530,7 @@ public final class GraftTrees {
         private final int[] number = new int[NODES_MOST];
         private int locals = 0;
         private int params = 0;
-        private final int[] localPlace = new int[LOCALS_MOST];
-        private final int[] localSize = new int[LOCALS_MOST];
+        private final int[] localWord = new int[LOCALS_MOST];
         private int ops = 0;
         private final int[] opWhat = new int[OPS_MOST];
         private final int[] opNode = new int[OPS_MOST];
@@ -534,6 +558,7 @@ public final class GraftTrees {
             kind[id] = ofKind;
             place[id] = tokens.place;
             size[id] = tokens.size;
+            word[id] = tokens.word;
             extra[id] = 0;
             value[id] = 0;
             next[id] = NONE;
@@ -596,33 +621,31 @@ public final class GraftTrees {
         void addParam() {
             if (params == PARAMS_MOST) {
                 tokens.refuse(4, tokens.place);
-            } else if (localOf(tokens.place, tokens.size) != NONE) {
+            } else if (localOf(tokens.word) != NONE) {
                 tokens.refuse(6, tokens.place);
             } else {
+                localWord[locals] = tokens.word;
+                locals++;
                 params++;
-                addLocal(tokens.place, tokens.size);
             }
         }
 
-        void addTarget(int id) {
-            if (localOf(place[id], size[id]) == NONE) {
-                addLocal(place[id], size[id]);
-            }
-        }
-
-        private void addLocal(int where, int letters) {
-            if (locals == LOCALS_MOST) {
-                tokens.refuse(4, where);
+        /** The NAME of this NODE is a LOCAL, as its = is there. */
+        void addLocal(int id) {
+            if (localOf(word[id]) != NONE) {
                 return;
             }
-            localPlace[locals] = where;
-            localSize[locals] = letters;
+            if (locals == LOCALS_MOST) {
+                tokens.refuse(4, place[id]);
+                return;
+            }
+            localWord[locals] = word[id];
             locals++;
         }
 
-        private int localOf(int where, int letters) {
+        private int localOf(int letters) {
             for (int i = 0; i < locals; i++) {
-                if (tokens.sameBytes(localPlace[i], localSize[i], where, letters)) {
+                if (localWord[i] == letters) {
                     return i;
                 }
             }
@@ -655,7 +678,7 @@ public final class GraftTrees {
             boolean twoSided = kind[id] >= PLUS && kind[id] <= OR;
             root.extra[k] = twoSided ? number[extra[id]] : extra[id];
             if (kind[id] == PARAM || kind[id] == WRITE || kind[id] == NAME) {
-                int local = localOf(place[id], size[id]);
+                int local = localOf(word[id]);
                 if (kind[id] == NAME) {
                     root.kind[k] = local == NONE ? NAME : READ;
                 }
@@ -673,8 +696,8 @@ public final class GraftTrees {
         private final Cells cells;
         private final House house;
         private final Big big = new Big();
-        private final int[] toldPlace = new int[FUNCTIONS_MOST];
-        private final int[] toldSize = new int[FUNCTIONS_MOST];
+        private final int[] toldWord = new int[FUNCTIONS_MOST];
+        private int toldSize = 0;
         private int told = 0;
         private int open = 0;
         private boolean real = false;
@@ -694,10 +717,13 @@ public final class GraftTrees {
             open = 0;
             tokens.rewind();
             for (int i = 0; i <= FUNCTIONS_MOST && goesOn() && (i == 0 || tokens.kind != Tokens.FINISH); i++) {
-                int head = readFunction();
+                beginFunction();
+                int head = readHead();
+                head = draft.join(head, readBlock());
+                draft.emit(END, 0, 0);
                 if (real && goesOn() && told > 0) {
-                    int at = tokens.from + toldPlace[told - 1];
-                    house.define(draft, head, house.nameOf(tokens.source, at, toldSize[told - 1]));
+                    int at = tokens.from + toldWord[told - 1];
+                    house.define(draft, head, house.nameOf(tokens.source, at, toldSize));
                 }
             }
             return told;
@@ -733,20 +759,20 @@ public final class GraftTrees {
         }
 
         private void expectClosing(int kind) {
-            expect(kind);
-            open--;
+            if (tokens.kind == kind) {
+                open--;
+                tokens.take();
+            } else {
+                tokens.refuse(2, tokens.place);
+            }
         }
 
-        private int readFunction() {
+        private void beginFunction() {
             draft.clear();
             loopAgain = NONE;
             loopExit = NONE;
             expect(Tokens.FUNCTION_WORD);
             readFunctionName();
-            int head = readHead();
-            head = draft.join(head, readBlock());
-            draft.emit(END, 0, 0);
-            return head;
         }
 
         private void readFunctionName() {
@@ -759,13 +785,13 @@ public final class GraftTrees {
                 return;
             }
             for (int i = 0; i < told; i++) {
-                if (tokens.sameBytes(toldPlace[i], toldSize[i], tokens.place, tokens.size)) {
+                if (toldWord[i] == tokens.word) {
                     tokens.refuse(6, tokens.place);
                     return;
                 }
             }
-            toldPlace[told] = tokens.place;
-            toldSize[told] = tokens.size;
+            toldWord[told] = tokens.word;
+            toldSize = tokens.size;
             told++;
             tokens.take();
         }
@@ -829,18 +855,13 @@ public final class GraftTrees {
             return head;
         }
 
-        private int readCondition() {
-            expectOpening('(');
-            int head = readExpression();
-            expectClosing(')');
-            return head;
-        }
-
         private int readIf() {
             int id = draft.add(IF);
             tokens.take();
             draft.emit(STEP, id, 0);
-            int head = draft.join(id, readCondition());
+            expectOpening('(');
+            int head = draft.join(id, readExpression());
+            expectClosing(')');
             int toElse = draft.emit(BRANCH, id, 0);
             head = draft.join(head, readBlock());
             if (tokens.kind != Tokens.ELSE_WORD) {
@@ -866,7 +887,9 @@ public final class GraftTrees {
             int exit = draft.emit(JUMP, 0, 0);
             int again = draft.emit(AGAIN, id, 0);
             draft.aimHere(toFirst);
-            int head = draft.join(id, readCondition());
+            expectOpening('(');
+            int head = draft.join(id, readExpression());
+            expectClosing(')');
             draft.emit(BRANCH, id, exit);
             loopAgain = again;
             loopExit = exit;
@@ -917,7 +940,7 @@ public final class GraftTrees {
             int id = target;
             countOpening();
             if (draft.isName(id)) {
-                draft.addTarget(id);
+                draft.addLocal(id);
             }
             draft.turnIntoTarget(id);
             tokens.take();
@@ -1078,7 +1101,12 @@ public final class GraftTrees {
         private int readAtom() {
             int kind = literalKind();
             if (kind != NONE) {
-                return readLiteral(kind);
+                int id = draft.add(kind);
+                setLiteral(id, kind);
+                draft.emit(kind, id, 0);
+                tokens.take();
+                target = kind == NAME ? id : NONE;
+                return id;
             }
             expectOpening('(');
             if (!goesOn()) {
@@ -1101,8 +1129,7 @@ public final class GraftTrees {
             }
         }
 
-        private int readLiteral(int kind) {
-            int id = draft.add(kind);
+        private void setLiteral(int id, int kind) {
             int at = tokens.from + tokens.place;
             if (kind == TRUTH) {
                 draft.setValue(id, 0, tokens.kind == Tokens.TRUE_WORD ? 1 : 0);
@@ -1113,10 +1140,6 @@ public final class GraftTrees {
                 boolean fits = big.fitsLong();
                 draft.setValue(id, fits ? 0 : 1, fits ? big.toLong() : cells.keepBig(big));
             }
-            draft.emit(kind, id, 0);
-            tokens.take();
-            target = kind == NAME ? id : NONE;
-            return id;
         }
     }
 
@@ -1169,7 +1192,8 @@ public final class GraftTrees {
 
         /** Of a number that is not below 0. */
         boolean fitsLong() {
-            return limb[3] == 0 && limb[2] < 10 && toLong() >= 0;
+            // Nineteen digits are less than 2 to the 64: by the sign they tell if they are 2 to the 63 or more.
+            return limb[3] == 0 && limb[2] < 10 && ((long) limb[2] * BASE + limb[1]) * BASE + limb[0] >= 0;
         }
 
         long toLong() {
@@ -1247,7 +1271,7 @@ public final class GraftTrees {
             return fits;
         }
 
-        /** Becomes a / b towards 0, limb by limb; b is not 0. */
+        /** Becomes a / b towards 0, limb by limb, each found by halves; b is not 0. */
         void setQuotient(Big a, Big b) {
             Arrays.fill(wide, 0);
             for (int i = BIG_CELLS - 1; i >= 0; i--) {
@@ -1255,28 +1279,22 @@ public final class GraftTrees {
                     wide[j] = wide[j - 1];
                 }
                 wide[0] = a.limb[i];
-                limb[i] = quotientLimb(b);
-                takeTimes(b, limb[i]);
+                int low = 0;
+                int high = BASE - 1;
+                for (int turn = 0; turn < 32 && low < high; turn++) {
+                    int middle = low + (high - low + 1) / 2;
+                    setPart(b, middle);
+                    low = restHoldsPart() ? middle : low;
+                    high = low == middle ? high : middle - 1;
+                }
+                setPart(b, low);
+                takePart();
+                limb[i] = low;
             }
             below = a.below != b.below && !isZero();
         }
 
-        private int quotientLimb(Big b) {
-            int low = 0;
-            int high = BASE - 1;
-            for (int i = 0; i < 32 && low < high; i++) {
-                int middle = low + (high - low + 1) / 2;
-                if (restHolds(b, middle)) {
-                    low = middle;
-                } else {
-                    high = middle - 1;
-                }
-            }
-            return low;
-        }
-
-        private boolean restHolds(Big b, int times) {
-            setPart(b, times);
+        private boolean restHoldsPart() {
             for (int i = BIG_CELLS; i >= 0; i--) {
                 if (wide[i] != part[i]) {
                     return wide[i] > part[i];
@@ -1285,8 +1303,7 @@ public final class GraftTrees {
             return true;
         }
 
-        private void takeTimes(Big b, int times) {
-            setPart(b, times);
+        private void takePart() {
             long borrow = 0;
             for (int i = 0; i <= BIG_CELLS; i++) {
                 long rest = wide[i] - part[i] - borrow;
@@ -1457,10 +1474,6 @@ public final class GraftTrees {
             }
         }
 
-        void showNumber(Big big) {
-            shownLength = big.showIn(shown, shownLength);
-        }
-
         boolean same(int stringA, int stringB) {
             int length = cell[stringA];
             boolean same = length == cell[stringB];
@@ -1583,11 +1596,10 @@ public final class GraftTrees {
             return NONE;
         }
 
-        /** THE CHILD, which comes if it is not there; NONE if there is no place for it. */
-        int wantedChild(int s, int string, int ofSort) {
-            int found = childOf(s, string, ofSort);
-            if (found != NONE || count == SHAPES_MOST) {
-                return found;
+        /** The CHILD that is wanted and not there; NONE if there is no place for it. */
+        int makeChild(int s, int string, int ofSort) {
+            if (count == SHAPES_MOST) {
+                return NONE;
             }
             int fresh = count;
             count++;
@@ -1627,7 +1639,9 @@ public final class GraftTrees {
             setLine(s);
             int at = 0;
             for (int i = 0; i < size[s] && at != NONE; i++) {
-                at = wantedChild(at, word[line[i]], i == slot ? SORT_ANY : sort[line[i]]);
+                int ofSort = i == slot ? SORT_ANY : sort[line[i]];
+                int found = childOf(at, word[line[i]], ofSort);
+                at = found == NONE ? makeChild(at, word[line[i]], ofSort) : found;
             }
             heir[s] = at;
         }
@@ -1640,7 +1654,10 @@ public final class GraftTrees {
                 case 3: return size[s];
                 default:
                     int letter = what - 4;
-                    return s == 0 || letter < 0 || letter >= cells.cell[word[s]] ? NONE : cells.cell[word[s] + 1 + letter];
+                    if (s == 0 || letter < 0 || letter >= cells.cell[word[s]]) {
+                        return NONE;
+                    }
+                    return cells.cell[word[s] + 1 + letter];
             }
         }
     }
@@ -1729,7 +1746,8 @@ public final class GraftTrees {
         boolean hasShape(int s) {
             for (int k = 0; k < nodes; k++) {
                 for (int i = 0; i < entries[k] && kind[k] != CALL; i++) {
-                    if (entryAhead(k, i) == s || entryBehind(k, i) == s) {
+                    int at = k * ENTRY_CELLS + i * 3;
+                    if (entry[at] == s || entry[at + 2] == s) {
                         return true;
                     }
                 }
@@ -2291,7 +2309,6 @@ public final class GraftTrees {
         private final Cells cells;
         private final House house;
         private final Shapes shapes;
-        private final Parser parser;
         final Frames frames = new Frames();
         private final Big left = new Big();
         private final Big right = new Big();
@@ -2309,15 +2326,15 @@ public final class GraftTrees {
         final int[] resultLetters = new int[STRING_MOST];
         int resultLength = 0;
 
-        Machine(Cells cells, House house, Shapes shapes, Parser parser) {
+        Machine(Cells cells, House house, Shapes shapes) {
             this.cells = cells;
             this.house = house;
             this.shapes = shapes;
-            this.parser = parser;
         }
 
         void drop() {
             standing = NO_RUN;
+            defining = NONE;
             steps = 0;
             outLength = 0;
             resultLength = 0;
@@ -2342,10 +2359,10 @@ public final class GraftTrees {
             return true;
         }
 
-        /** Works on until n STEPS are made and the next one would begin, or the RUN ends. */
+        /** Works on until n STEPS are made and the next one would begin, define wants a TEXT read, or the RUN ends. */
         int go(int n) {
             int made = 0;
-            for (int i = 0; i < COUNT_MOST && standing == UNDER_WAY; i++) {
+            for (int i = 0; i < COUNT_MOST && standing == UNDER_WAY && defining == NONE; i++) {
                 Root r = house.roots[frames.newestRoot()];
                 int op = frames.newestOp();
                 int what = r.opWhat[op];
@@ -2357,9 +2374,6 @@ public final class GraftTrees {
                 } else {
                     frames.jump(op + 1);
                     work(r, what, r.opNode[op], r.opArg[op]);
-                    if (defining != NONE) {
-                        defineText(r);
-                    }
                 }
             }
             return made;
@@ -2551,22 +2565,19 @@ public final class GraftTrees {
         private void arithmetic(Root r, int k) {
             boolean joins = frames.kindBelow(0) == IS_STRING || frames.kindBelow(1) == IS_STRING;
             if (r.kind[k] == PLUS && joins) {
-                joinStrings(r, k);
+                if (showBoth(k)) {
+                    gain(r, k, 4);
+                    frames.replace(2, IS_STRING, cells.makeShown());
+                }
             } else if (!areNumbers()) {
                 fail(1, k);
-            } else if (!calculateLong(r, k)) {
+            } else if ((r.state[k] & 2) == 0 && areLongs()
+                    && fitsLong(r.kind[k], frames.bitsBelow(1), frames.bitsBelow(0))) {
+                gain(r, k, 1);
+                frames.replace(2, IS_LONG, longAnswer);
+            } else {
                 calculateBig(r, k);
             }
-        }
-
-        /** True if the numbers are worked out by bit 1 of the STATE. */
-        private boolean calculateLong(Root r, int k) {
-            if (!areLongs() || (r.state[k] & 2) != 0 || !fitsLong(r.kind[k], frames.bitsBelow(1), frames.bitsBelow(0))) {
-                return false;
-            }
-            gain(r, k, 1);
-            frames.replace(2, IS_LONG, longAnswer);
-            return true;
         }
 
         private boolean fitsLong(int kind, long a, long b) {
@@ -2612,10 +2623,11 @@ public final class GraftTrees {
             frames.replace(2, IS_BIG, cells.makeBig(answer));
         }
 
-        private void joinStrings(Root r, int k) {
+        /** What + makes of a STRING and another VALUE; false by an ERROR. */
+        private boolean showBoth(int k) {
             if (frames.kindBelow(0) >= IS_FUNCTION || frames.kindBelow(1) >= IS_FUNCTION) {
                 fail(1, k);
-                return;
+                return false;
             }
             cells.shownLength = 0;
             show(1);
@@ -2623,10 +2635,9 @@ public final class GraftTrees {
             boolean fits = cells.shownLength <= STRING_MOST;
             if (!fits || !cells.mayMake(cells.shownLength + 1)) {
                 fail(fits ? 9 : 8, k);
-                return;
+                return false;
             }
-            gain(r, k, 4);
-            frames.replace(2, IS_STRING, cells.makeShown());
+            return true;
         }
 
         /** The VALUE below that many others comes behind what is SHOWN. */
@@ -2638,9 +2649,13 @@ public final class GraftTrees {
                 case IS_STRING: cells.showString((int) bits); break;
                 case IS_FUNCTION: cells.showString(house.nameAt[(int) bits]); break;
                 case IS_OBJECT: cells.showOwn("{}"); break;
+                case IS_LONG:
+                    left.setLong(bits);
+                    cells.shownLength = left.showIn(cells.shown, cells.shownLength);
+                    break;
                 default:
-                    setBig(left, others);
-                    cells.showNumber(left);
+                    left.setCells(cells.cell, (int) bits);
+                    cells.shownLength = left.showIn(cells.shown, cells.shownLength);
                     break;
             }
         }
@@ -2746,7 +2761,7 @@ public final class GraftTrees {
 
         private void getProperty(Root r, int k) {
             int others = r.extra[k];
-            if (!isProperty(r, k, others, others)) {
+            if (!isProperty(k, others, others)) {
                 return;
             }
             int object = (int) frames.bitsBelow(others);
@@ -2762,7 +2777,7 @@ public final class GraftTrees {
         }
 
         /** The OBJECT of a GET or PUT lies below that many others, the STRING of one with [ ] right above it. */
-        private boolean isProperty(Root r, int k, int others, int keyed) {
+        private boolean isProperty(int k, int others, int keyed) {
             if (frames.kindBelow(others) != IS_OBJECT) {
                 fail(4, k);
                 return false;
@@ -2780,44 +2795,48 @@ public final class GraftTrees {
 
         private void putProperty(Root r, int k) {
             int others = r.extra[k] + 1;
-            if (!isProperty(r, k, others, r.extra[k])) {
+            if (!isProperty(k, others, r.extra[k])) {
                 return;
             }
             int object = (int) frames.bitsBelow(others);
-            int slot = shapes.slotOf(shapes.ofObject[object], keyOf(r, k, 1));
-            if (slot == NONE) {
-                slot = addProperty(r, k, object);
-            } else {
-                slot = keepProperty(r, k, object, slot);
+            int s = shapes.settled(shapes.ofObject[object]);
+            int found = shapes.slotOf(s, keyOf(r, k, 1));
+            int behind = found == NONE ? addProperty(k, s, keyOf(r, k, 1)) : keepProperty(k, s, found);
+            if (behind == NONE) {
+                return;
             }
-            if (slot != NONE) {
-                shapes.setProperty(object, slot, frames.kindBelow(0), frames.bitsBelow(0));
-                frames.replace(others + 1, frames.kindBelow(0), frames.bitsBelow(0));
+            shapes.moveObject(object);
+            int slot = found;
+            if (found == NONE) {
+                slot = shapes.size[s];
+                shapes.ofObject[object] = behind;
             }
+            if (!shapes.isObsolete(s)) {
+                note(r, k, s, slot, behind);
+            }
+            shapes.setProperty(object, slot, frames.kindBelow(0), frames.bitsBelow(0));
+            frames.replace(others + 1, frames.kindBelow(0), frames.bitsBelow(0));
         }
 
-        private int addProperty(Root r, int k, int object) {
-            int s = shapes.settled(shapes.ofObject[object]);
-            int string = keyOf(r, k, 1);
+        /** The SHAPE behind a PUT of a PROPERTY that was not there; NONE by an ERROR. */
+        private int addProperty(int k, int s, int string) {
             int sort = frames.kindBelow(0) == IS_LONG ? SORT_LONG : SORT_ANY;
-            int slot = shapes.size[s];
-            if (slot == PROPERTIES_MOST || (shapes.count == SHAPES_MOST && shapes.childOf(s, string, sort) == NONE)) {
+            int child = NONE;
+            if (shapes.size[s] < PROPERTIES_MOST) {
+                int found = shapes.childOf(s, string, sort);
+                child = found == NONE ? shapes.makeChild(s, string, sort) : found;
+            }
+            if (child == NONE) {
                 fail(9, k);
                 return NONE;
             }
-            shapes.moveObject(object);
-            int behind = shapes.settled(shapes.wantedChild(s, string, sort));
-            shapes.ofObject[object] = behind;
-            note(r, k, s, slot, behind);
-            return slot;
+            return shapes.settled(child);
         }
 
-        private int keepProperty(Root r, int k, int object, int slot) {
-            int s = shapes.settled(shapes.ofObject[object]);
+        /** The SHAPE of a PUT of a PROPERTY that is there, OBSOLETE if its SORT was too narrow; NONE by an ERROR. */
+        private int keepProperty(int k, int s, int slot) {
             if (frames.kindBelow(0) == IS_LONG || shapes.sortAt(s, slot) == SORT_ANY) {
-                shapes.moveObject(object);
-                note(r, k, s, slot, s);
-                return slot;
+                return s;
             }
             if (shapes.count + shapes.lackingForHeir(s, slot) > SHAPES_MOST) {
                 fail(9, k);
@@ -2825,8 +2844,7 @@ public final class GraftTrees {
             }
             shapes.outdate(s, slot);
             house.endCodesOnShape(s);
-            shapes.moveObject(object);
-            return slot;
+            return s;
         }
 
         private void call(Root r, int k) {
@@ -2935,21 +2953,32 @@ public final class GraftTrees {
             outLength++;
         }
 
-        private void defineText(Root r) {
-            int k = defining;
-            defining = NONE;
-            int args = (int) r.value[k];
-            int string = (int) frames.bitsBelow(args - 1);
-            parser.tokens.scan(cells.cell, string + 1, cells.cell[string]);
-            int functions = parser.pass(false);
-            if (parser.tokens.faultNumber != 0) {
-                fail(11, k);
+        boolean isDefining() {
+            return standing == UNDER_WAY && defining != NONE;
+        }
+
+        /** Where the STRING lies that define reads as a TEXT. */
+        int definingFrom() {
+            return (int) frames.bitsBelow(definingArgs() - 1);
+        }
+
+        private int definingArgs() {
+            return (int) house.roots[frames.newestRoot()].value[defining];
+        }
+
+        boolean mayDefine(int functions, int faultNumber) {
+            if (faultNumber != 0) {
+                fail(11, defining);
             } else if (house.count + functions > ROOTS_MOST) {
-                fail(9, k);
-            } else {
-                parser.pass(true);
-                answerCall(args, IS_NULL, 0);
+                fail(9, defining);
             }
+            return standing == UNDER_WAY;
+        }
+
+        void answerDefine() {
+            int args = definingArgs();
+            defining = NONE;
+            answerCall(args, IS_NULL, 0);
         }
     }
 }

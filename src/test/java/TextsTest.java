@@ -1,0 +1,291 @@
+/** The tape, TEXTS and their FAULTS, how NODES are numbered: promises 2, 3, 4 and 13. */
+final class TextsTest {
+    private static final int NONE = GraftTrees.NONE;
+
+    public static void main(String[] args) {
+        tape();
+        loading();
+        tokenFaults();
+        grammarFaults();
+        depthFaults();
+        limitFaults();
+        nameFaults();
+        orderOfFaults();
+        targets();
+        numbering();
+        locals();
+        Check.end("TextsTest");
+    }
+
+    private static void tape() {
+        GraftTrees x = new GraftTrees(1);
+        for (int i = 1; i <= 200; i++) {
+            Check.due("feed " + i, x.feed(i, -i, 0, Integer.MIN_VALUE, Integer.MAX_VALUE), i * 20);
+        }
+        Check.due("feed 201", x.feed(0, 0, 0, 0, 0), NONE);
+        Check.due("load of more than there is", x.load(4001), -2);
+        Check.due("load below 0", x.load(-1), -2);
+        Check.due("the tape stays by that", x.feed(0, 0, 0, 0, 0), NONE);
+        Check.due("load", x.load(4000), NONE);
+        Check.due("fault", x.fault(0), 1);
+        Check.due("the tape is empty then", x.feed(0, 0, 0, 0, 0), 20);
+        // The highest byte of each number comes first.
+        GraftTrees y = new GraftTrees(1);
+        Check.feed(y, " \n//x\nfunction f(){} ");
+        Check.due("load", y.load(20), 5);
+    }
+
+    private static void loading() {
+        GraftTrees x = Check.loaded(1, "function main(a){x=new();x.p=1;return a+1;}function g(){}");
+        Check.due("roots", x.total(5), 6);
+        Check.due("fault 0", x.fault(0), 0);
+        Check.due("fault 1", x.fault(1), NONE);
+        Check.due("fault 2", x.fault(2), NONE);
+        Check.due("fault -1", x.fault(-1), NONE);
+        x.start(1, 2);
+        x.run(2);
+        int heat = x.root(4, 2);
+        Check.feed(x, "function main(){ }}");
+        Check.due("a load with a fault", x.load(19), NONE);
+        Check.due("its number", x.fault(0), 2);
+        Check.due("its place", x.fault(1), 18);
+        Check.due("no run", x.state(), 0);
+        Check.due("steps of no run", x.total(0), 0);
+        Check.due("objects of no run", x.total(3), 0);
+        Check.due("what was stays: roots", x.total(5), 6);
+        Check.due("heat", x.root(4, 2), heat);
+        Check.due("shapes", x.total(6), 2);
+        Check.due("calls", x.total(14), 2);
+        Check.due("a load that does not happen", x.load(100), -2);
+        Check.due("the fault of the latest load stays", x.fault(0), 2);
+        Check.feed(x, "function g(){}function print(){}");
+        Check.due("load", x.load(32), 6);
+        Check.due("fault", x.fault(0), 0);
+        for (int what = 9; what <= 15; what++) {
+            Check.due("total " + what + " is gone", x.total(what), 0);
+        }
+        Check.due("shapes are gone", x.total(6), 1);
+        Check.due("the queue is gone", x.total(8), 0);
+        Check.due("print of the beginning is the newest no more", x.root(0, 6), 0);
+        Check.due("the other is", x.root(5, 6), 1);
+        Check.due("no main", x.start(1, 1), false);
+        Check.feed(x, "function g(){}");
+        x.load(14);
+        Check.due("print is the newest again", x.root(0, 6), 1);
+    }
+
+    private static void faulty(String text, int number, int place) {
+        GraftTrees x = new GraftTrees(1);
+        int bytes = Check.feed(x, text);
+        int roots = x.load(bytes);
+        Check.due("load of " + text, roots == NONE, number != 0);
+        Check.due("number of " + text, x.fault(0), number);
+        Check.due("place of " + text, x.fault(1), place);
+    }
+
+    /** A FAULT in main's body, its place counted from there. */
+    private static void faultyBody(String body, int number, int place) {
+        String head = "function main(a,b){";
+        faulty(head + body + "}", number, number == 0 ? NONE : head.length() + place);
+    }
+
+    private static String times(String part, int times) {
+        StringBuilder all = new StringBuilder();
+        for (int i = 0; i < times; i++) {
+            all.append(part);
+        }
+        return all.toString();
+    }
+
+    private static void tokenFaults() {
+        faultyBody("a;$", 1, 2);
+        faultyBody("a;\t", 1, 2);
+        faultyBody("a & b;", 1, 3);
+        faultyBody("a | b;", 1, 3);
+        faulty("function f(){a&", 1, 15);
+        faulty("function f(){\"ab", 1, 16);
+        faultyBody("\"a\nb\";", 1, 2);
+        faultyBody("\"" + times("s", 40) + "\";", 0, NONE);
+        faultyBody("\"" + times("s", 41) + "\";", 1, 41);
+        faultyBody("\"\u007f\";", 1, 1);
+        faultyBody("\" ~\";", 0, NONE);
+        faultyBody("abcdefghij12;", 0, NONE);
+        faultyBody("a;abcdefghij123;", 1, 2);
+        faultyBody(times("9", 36) + ";", 0, NONE);
+        faultyBody(times("0", 37) + ";", 1, 0);
+        faultyBody("12a;", 2, 2);
+        faultyBody("a//&$\"\n;b;//x", 2, 14);
+        faultyBody("a//&$\"\n;b;//x\n", 0, NONE);
+        faultyBody("_a;", 1, 0);
+        faultyBody("a%2;", 1, 1);
+        faultyBody("\u0080;", 1, 0);
+    }
+
+    private static void grammarFaults() {
+        faulty("", 2, 0);
+        faulty("  ", 2, 2);
+        faulty("x", 2, 0);
+        faulty("function", 2, 8);
+        faulty("function if(){}", 2, 9);
+        faulty("function f({}", 2, 11);
+        faulty("function f(a,){}", 2, 13);
+        faulty("function f(a b){}", 2, 13);
+        faulty("function f(){", 2, 13);
+        faulty("function f(){}//", 0, NONE);
+        faulty("function f(){} f", 2, 15);
+        faulty("function f(){}}", 2, 14);
+        faultyBody("if(a){}else{}", 0, NONE);
+        faultyBody("if(a){}else if(b){}", 2, 12);
+        faultyBody("if a {}", 2, 3);
+        faultyBody("if(a) b;", 2, 6);
+        faultyBody("while(){}", 2, 6);
+        faultyBody("else{}", 2, 0);
+        faultyBody("return;", 0, NONE);
+        faultyBody("return", 2, 6);
+        faultyBody("return a b;", 2, 9);
+        faultyBody("break", 5, 0);
+        faultyBody("while(a){break}", 2, 14);
+        faultyBody("a", 2, 1);
+        faultyBody(";", 2, 0);
+        faultyBody("a==b==c;", 2, 4);
+        faultyBody("a<b<c;", 2, 3);
+        faultyBody("a<b==c<b;", 0, NONE);
+        faultyBody("a==b!=c;", 2, 4);
+        faultyBody("(a==b)==c;", 0, NONE);
+        faultyBody("a+b-c*a/b&&c||a&&b;", 0, NONE);
+        faultyBody("-1;", 2, 0);
+        faultyBody("a+;", 2, 2);
+        faultyBody("a.;", 2, 2);
+        faultyBody("a.if;", 2, 2);
+        faultyBody("a.1;", 2, 2);
+        faultyBody("a[];", 2, 2);
+        faultyBody("a[1;", 2, 3);
+        faultyBody("f(,a);", 2, 2);
+        faultyBody("f(a,);", 2, 4);
+        faultyBody("f(a;", 2, 3);
+        faultyBody("(a;", 2, 2);
+        faultyBody("();", 2, 1);
+        faultyBody("!;", 2, 1);
+        faultyBody("!!a;", 0, NONE);
+        faultyBody("a / / b;", 2, 4);
+    }
+
+    private static void depthFaults() {
+        // The BLOCK's { is one of those that are open.
+        faultyBody(times("(", 19) + "a" + times(")", 19) + ";", 0, NONE);
+        faultyBody(times("(", 20) + "a", 3, 19);
+        faultyBody(times("!", 20) + "a", 3, 19);
+        faultyBody(times("!", 19) + "a;" + times("!", 19) + "a;", 0, NONE);
+        faultyBody(times("a[", 20), 3, 39);
+        faultyBody(times("f(", 20), 3, 39);
+        faultyBody(times("a=", 19) + "1;", 0, NONE);
+        faultyBody(times("a=", 20) + "1;", 3, 39);
+        faultyBody(times("a=1;", 40), 0, NONE);
+        faultyBody(times("if(a){", 19) + times("}", 19), 0, NONE);
+        faultyBody(times("if(a){", 20), 3, 116);
+        faultyBody(times("while(a){", 18) + "if(!a){", 3, 165);
+        faulty("function f(){{", 2, 13);
+    }
+
+    private static void limitFaults() {
+        StringBuilder fifty = new StringBuilder();
+        for (int i = 0; i < 50; i++) {
+            fifty.append("function f").append(i).append("(){}");
+        }
+        faulty(fifty.toString(), 0, NONE);
+        faulty(fifty + "function g(){}", 4, fifty.length() + 9);
+        faulty(fifty + "function f1(){}", 4, fifty.length() + 9);
+        faulty(fifty + "function 1(){}", 2, fifty.length() + 9);
+        faulty("function f(a,b,c,d,e,g){}", 0, NONE);
+        faulty("function f(a,b,c,d,e,g,h){}", 4, 23);
+        faulty("function f(a,b,c,d,e,g,a){}", 4, 23);
+        faulty("function f(a,b,c,d,e,g,1){}", 2, 23);
+        faultyBody("c=d=e=f=g=h=i=j=k=l=1;a=1;l=2;", 0, NONE);
+        faultyBody("c=d=e=f=g=h=i=j=k=l=1;m + 1;m =1;", 4, 28);
+        // 2 of the head, then one + for each but the first.
+        faultyBody("a" + times("+a", 148) + ";a;", 0, NONE);
+        faultyBody("a" + times("+a", 148) + ";a;a;", 4, 300);
+        faultyBody("a" + times("+a", 148) + "+a;", 4, 298);
+        faultyBody("a" + times("+a", 148) + ";a;break;", 4, 300);
+        faultyBody("a" + times("+a", 148) + ";break;", 5, 298);
+        faultyBody("a" + times(".b", 297) + ";", 0, NONE);
+        faultyBody("a" + times(".b", 297) + "=1;", 4, 596);
+        faultyBody("f(1,2,3,4,5,6,7,8,9,10,11,12);", 0, NONE);
+        faultyBody("f(1,2,3,4,5,6,7,8,9,10,11,12, a);", 4, 30);
+        faultyBody("f(1,2,3,4,5,6,7,8,9,10,11,12,);", 2, 29);
+        faultyBody("f(1,2,3,4,5,6,7,8,9,10,11,12,!a);", 4, 29);
+        faultyBody(times("(", 18) + "f(1,2,3,4,5,6,7,8,9,10,11,12,(a));", 3, 47);
+    }
+
+    private static void nameFaults() {
+        faulty("function f(){}function f(){}", 6, 23);
+        faulty("function f(a,b,a){}", 6, 15);
+        faulty("function f(f){}function g(f){}", 0, NONE);
+        faultyBody("continue;", 5, 0);
+        faultyBody("while(a){}break;", 5, 10);
+        faultyBody("while(a){if(b){break;}else{continue;}}", 0, NONE);
+        faulty("function f(){while(true){}}function g(){break;}", 5, 40);
+    }
+
+    private static void orderOfFaults() {
+        // What is ahead is read as the TOKEN before it is taken, and no sooner.
+        faulty("x $", 2, 0);
+        faulty("function f(){a b $}", 2, 15);
+        faulty("function f(){a + $}", 1, 17);
+        faulty("function f(){)\"", 2, 13);
+    }
+
+    private static void targets() {
+        faultyBody("a.b=1;a[1]=2;(a).b=3;f(1).c=4;\"s\".b=5;a.b.c=a[1][2]=6;", 0, NONE);
+        faultyBody("(a)=1;", 2, 3);
+        faultyBody("(a.b)=1;", 2, 5);
+        faultyBody("!a.b=1;", 2, 4);
+        faultyBody("a+b=1;", 2, 3);
+        faultyBody("f(1)=1;", 2, 4);
+        faultyBody("1=1;", 2, 1);
+        faultyBody("a=b+c=1;", 2, 5);
+        faultyBody("a=b==c=1;", 2, 6);
+        faultyBody("f(a=1,b.c=2);if(a=true){}return b=1;", 0, NONE);
+    }
+
+    /** The KINDS of a ROOT's NODES and the places of their TOKENS. */
+    private static void nodes(String text, int root, String want) {
+        GraftTrees x = Check.loaded(1, text);
+        StringBuilder all = new StringBuilder();
+        for (int k = 0; k < x.root(root, 0); k++) {
+            all.append(k == 0 ? "" : " ").append(x.node(root, k, 0)).append('@').append(x.node(root, k, 1));
+        }
+        Check.due("nodes of " + text, all.toString(), want);
+        Check.due("no such node", x.node(root, x.root(root, 0), 0), NONE);
+    }
+
+    private static void numbering() {
+        nodes("function f(){}", 4, "");
+        nodes("function f(a,b){a+b*2;}", 4, "0@11 0@13 8@17 5@16 10@19 5@18 1@20");
+        nodes("function f(a){a-1-2;}", 4, "0@11 9@17 9@15 5@14 1@16 1@18");
+        nodes("function f(){a=b=\"s\";c.d=a.e;}", 4, "6@13 6@15 2@17 22@22 7@21 21@26 5@25");
+        nodes("function f(o){o[1][2]=null;}", 4, "0@11 22@18 21@15 5@14 1@16 1@19 4@22");
+        nodes("function f(o){g(1,o.p)(2);}", 4, "0@11 23@22 23@15 7@14 1@16 21@19 5@18 1@23");
+        nodes("function f(){if(a<1){b;}else{c;}}", 4, "24@13 12@17 7@16 1@18 7@21 7@29");
+        nodes("function f(){while(true){break;continue;}return;}", 4, "25@13 3@19 27@25 28@31 26@41");
+        nodes("function f(){return !(a||b&&c);}", 4, "26@13 20@20 19@23 7@22 18@26 7@25 7@28");
+        nodes("function f(){a<1;a<=1;a>1;a>=1;a==1;a!=1;a/1;false;}", 4,
+                "12@14 7@13 1@15 13@18 7@17 1@20 14@23 7@22 1@24 15@27 7@26 1@29 16@32 7@31 1@34 17@37 7@36 1@39"
+                        + " 11@42 7@41 1@43 3@45");
+        nodes("function g(x){x;}function f(y){y;}", 5, "0@28 5@31");
+    }
+
+    private static void locals() {
+        // b is a LOCAL though it is read ahead of its = ; what is behind a . is none.
+        GraftTrees x = Check.loaded(1, "function f(a){b;c;a.d=1;b=e=2;}");
+        Check.due("locals", x.root(4, 1), 3);
+        Check.due("kind of b", x.node(4, 1, 0), 5);
+        Check.due("local of b", x.node(4, 1, 11), 1);
+        Check.due("kind of c", x.node(4, 2, 0), 7);
+        Check.due("local of c", x.node(4, 2, 11), NONE);
+        Check.due("local of the param", x.node(4, 0, 11), 0);
+        Check.due("local of the first write", x.node(4, 6, 11), 1);
+        Check.due("local of the second write", x.node(4, 7, 11), 2);
+        Check.due("local of a put", x.node(4, 3, 11), NONE);
+    }
+}
