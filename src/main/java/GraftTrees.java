@@ -434,7 +434,7 @@ public final class GraftTrees {
         }
 
         private int wordKind(int begin, int letters) {
-            int word = FUNCTION_WORD;
+            int keyword = FUNCTION_WORD;
             int matched = 0;
             boolean same = true;
             for (int i = 0; i < KEYWORDS.length(); i++) {
@@ -443,9 +443,9 @@ public final class GraftTrees {
                     same = same && matched < letters && byteAt(begin + matched) == c;
                     matched++;
                 } else if (same && matched == letters) {
-                    return word;
+                    return keyword;
                 } else {
-                    word++;
+                    keyword++;
                     matched = 0;
                     same = true;
                 }
@@ -963,7 +963,7 @@ public final class GraftTrees {
                 tokens.take();
                 boolean lazy = level <= 1;
                 int leap = lazy ? draft.emit(LEFT, id, 0) : 0;
-                int right = readBinary(level + 1);
+                int right = level == LAST_LEVEL ? readUnary() : readBinary(level + 1);
                 draft.emit(PLUS, id, 0);
                 if (lazy) {
                     draft.aimHere(leap);
