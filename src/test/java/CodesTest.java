@@ -19,6 +19,7 @@ final class CodesTest {
         fallByDefine();
         fallByShape();
         inlinedInCodeThatEnded();
+        codesThatStay();
         endOfSeveral();
         ownFunctionDefined();
         Check.end("CodesTest");
@@ -251,6 +252,12 @@ final class CodesTest {
         Check.due("nodes", x.code(0, 3), 150);
         Check.due("the first f", x.code(0, 11), 5);
         Check.due("g in spite of the f that did not fit", x.code(0, 12), 6);
+        // The first ROOT that is told may be INLINED as any other.
+        x = Check.loaded(1, "function f(){1;}function main(a,b){f();}");
+        runAll(x, 0, 0);
+        Check.due("compile", x.compile(), 5);
+        Check.due("units", x.code(0, 2), 2);
+        Check.due("f", x.code(0, 11), 4);
         // With two ENTRIES none.
         x = Check.loaded(1, "function main(a,b){h=f;if(a==1){h=g;}h();}function f(){}function g(){}");
         runAll(x, 0, 0);
@@ -462,6 +469,28 @@ final class CodesTest {
         x.run(20001);
         Check.due("end", x.state(), 2);
         Check.due("falls", x.total(12), 1);
+    }
+
+    /** What a CODE does not rest on is no matter to it. */
+    private static void codesThatStay() {
+        GraftTrees x = Check.loaded(1, "function main(a,b){o=new();o.p=1;f();g();}function f(){1;}"
+                + "function g(){define(\"function h(){}\");p=new();p.q=1;p.q=null;}");
+        runAll(x, 0, 0);
+        Check.due("main", x.compile(), 4);
+        Check.due("f", x.compile(), 5);
+        x.start(0, 0);
+        x.run(20001);
+        Check.due("g changed: main has it as a unit", x.code(0, 1), 0);
+        Check.due("f's code stays", x.code(1, 1), 1);
+        Check.due("heat of f", x.root(5, 2), 1);
+        x = Check.loaded(1, "function main(a,b){f();if(a==1){define(\"function h(){}\");}2;}function f(){print(1);}");
+        runAll(x, 1, 0);
+        runAll(x, 0, 0);
+        Check.due("main", x.compile(), 4);
+        runAll(x, 1, 0);
+        Check.due("h is defined again", x.total(5), 8);
+        Check.due("main's code stays", x.code(0, 1), 1);
+        Check.due("no falls", x.total(12), 0);
     }
 
     private static void endOfSeveral() {

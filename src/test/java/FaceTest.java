@@ -177,7 +177,7 @@ final class FaceTest {
     /** What a load brings takes the place of all that was, however often. */
     private static void manyLoads() {
         GraftTrees x = new GraftTrees(1);
-        String text = "function main(a,b){i=0;while(true){define(\"function f\"+i+\"(){return 1+\"+i+\";}\");i=i+1;}}";
+        String text = "function main(a,b){i=0;while(true){define(\"function longerName\"+i+\"(){return 1+\"+i+\";}\");i=i+1;}}";
         for (int i = 0; i < 60; i++) {
             Check.due("load", x.load(Check.feed(x, text)), 5);
             x.start(0, 0);
@@ -185,7 +185,9 @@ final class FaceTest {
             Check.due("error", Check.outcome(x), "E9@6");
             Check.due("roots", x.total(5), 60);
         }
-        Check.due("name of the last root", x.root(59, 32), '4');
+        Check.due("name of the last root", x.root(59, 30), 'l');
+        Check.due("name of the last root", x.root(59, 41), '4');
+        Check.due("behind the name", x.root(59, 42), NONE);
         Check.due("its nodes", x.root(59, 0), 4);
     }
 }

@@ -72,6 +72,36 @@ final class TextsTest {
         Check.feed(x, "function g(){}");
         x.load(14);
         Check.due("print is the newest again", x.root(0, 6), 1);
+        freshNodes();
+    }
+
+    /** A ROOT has nothing of the one that had its number before. */
+    private static void freshNodes() {
+        String text = "function main(a,b){o=new();o.p=1;i=0;while(i<3){i=i+a;}return o.p;}";
+        GraftTrees x = Check.loaded(1, text);
+        x.start(1, 0);
+        x.run(99);
+        Check.due("compile", x.compile(), 4);
+        x.start(1, 0);
+        x.run(9);
+        Check.due("load", x.load(Check.feed(x, text)), 5);
+        for (int k = 0; k < x.root(4, 0); k++) {
+            Check.due("state of " + k, x.node(4, k, 2), 0);
+            Check.due("changes of " + k, x.node(4, k, 3), 0);
+            Check.due("entries of " + k, x.node(4, k, 4), 0);
+        }
+        int[] wanted = {0, NONE, 0, NONE, 1, 0};
+        for (int what = 2; what < 8; what++) {
+            Check.due("root what " + what, x.root(4, what), wanted[what - 2]);
+        }
+        for (int what = 10; what < 14; what++) {
+            Check.due("sort " + what, x.root(4, what), 0);
+        }
+        Check.due("code", x.code(0, 0), NONE);
+        Check.due("shape 1", x.shape(1, 0), NONE);
+        x.start(1, 0);
+        x.run(99);
+        Check.due("it says the same", Check.outcome(x), "1");
     }
 
     private static void faulty(String text, int number, int place) {
@@ -110,6 +140,10 @@ final class TextsTest {
         faultyBody("\"\u007f\";", 1, 1);
         faultyBody("\" ~\";", 0, NONE);
         faultyBody("abcdefghij12;", 0, NONE);
+        faultyBody("azAZ09;A;Z;z9;", 0, NONE);
+        faultyBody("a@;", 1, 1);
+        faultyBody("a`;", 1, 1);
+        faultyBody("a:;", 1, 1);
         faultyBody("a;abcdefghij123;", 1, 2);
         faultyBody(times("9", 36) + ";", 0, NONE);
         faultyBody(times("0", 37) + ";", 1, 0);

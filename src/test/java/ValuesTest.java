@@ -115,6 +115,10 @@ final class ValuesTest {
         Check.says("return (0-100000000000000000000)/33333333333333333333;", "-3");
         Check.says("return 100000000000000000000/100000000000000000001;", "0");
         Check.says("return 100000000000000000000-100000000000000000000;", "0");
+        Check.says("return 100000000000000000000-1;", "99999999999999999999");
+        Check.says("return 1-100000000000000000000;", "-99999999999999999999");
+        Check.says("x=100000000000000000000;return x*3+\" \"+x*7+\" \"+x/3*(0-5);",
+                "300000000000000000000 700000000000000000000 -166666666666666666665");
         Check.says("return 1/0;", "E2@3");
         Check.says("x=100000000000000000000;return 1/(x-x);", "E2@5");
         Check.says("return null/0;", "E1@3");
@@ -131,6 +135,8 @@ final class ValuesTest {
         Check.says("return null+\"a\"+100000000000000000000;", "nulla100000000000000000000");
         Check.says("return \"a\"+new();", "E1@3");
         Check.says("return main+\"a\";", "E1@3");
+        Check.says("return \"a\"+main;", "E1@3");
+        Check.says("return new()+\"a\";", "E1@3");
         Check.says("s=\"0123456789\";s=s+s;s=s+s+s+s+s;s=s+s;return s+\"\"==s;", "true");
         Check.says("s=\"0123456789\";s=s+s;s=s+s+s+s+s;s=s+s;return s+1;", "E8@23");
         Check.says("return \"//\";", "//");
