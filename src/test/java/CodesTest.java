@@ -176,6 +176,8 @@ final class CodesTest {
         Check.due("a big result", guardsOf("function main(a,b){return a+b;}", 1, Long.MAX_VALUE, 4), 5);
         Check.due("sides that are not sure", guardsOf("function main(a,b){return f()<f();}function f(){return 1;}",
                 1, 2, 4), 2 + 2 + 2);
+        Check.due("the right side is not sure", guardsOf("function main(){1<f();}function f(){return 1;}", 0, 0, 4), 2);
+        Check.due("the left side is not sure", guardsOf("function main(){f()<1;}function f(){return 1;}", 0, 0, 4), 2);
         Check.due("a big number is not sure", guardsOf("function main(){1==1;9223372036854775808==1;}", 0, 0, 4), 1);
         Check.due("state 0", guardsOf("function main(){return 1;1+1;x;x=1;true&&true;if(true){}while(false){}f();x.y;}",
                 0, 0, 4), 9);

@@ -12,6 +12,7 @@ final class ShapesTest {
         obsoletePutLeavesItsNode();
         staleEntries();
         twoHundred();
+        longProperties();
         heirNeedsSeveral();
         Check.end("ShapesTest");
     }
@@ -167,6 +168,25 @@ final class ShapesTest {
         x.run(900);
         Check.due("error", x.error(0), 9);
         Check.due("steps", x.total(0), 2 + 199 * 4 + 2);
+    }
+
+    /** However long the PROPERTIES are, each load has place for those of 200 SHAPES. */
+    private static void longProperties() {
+        GraftTrees x = new GraftTrees(100);
+        String text = "function main(a,b){s=\"0123456789012345678901234567890123456789\";s=s+s+s+s;i=100;"
+                + "while(i<299){o=new();o[s+\"012345678901234567890123456789abcdefg\"+i]=1;i=i+1;}}";
+        for (int load = 0; load < 3; load++) {
+            Check.due("load", x.load(Check.feed(x, text)), 5);
+            x.start(0, 0);
+            x.run(20001);
+            Check.due("state", x.state(), 2);
+            Check.due("shapes", x.total(6), 200);
+            for (int s = 1; s < 200; s += 66) {
+                Check.due("the first letter", x.shape(s, 4), '0');
+                Check.due("the last letter", x.shape(s, 203), '0' + (s + 99) % 10);
+                Check.due("no more", x.shape(s, 204), NONE);
+            }
+        }
     }
 
     private static void heirNeedsSeveral() {

@@ -263,13 +263,15 @@ final class StatesTest {
         entries3(x, 26, new int[] {NONE, NONE, NONE}, new int[] {NONE, NONE, NONE});
         Check.due("no entries", x.node(4, 30, 4), 0);
         // Another STRING is another ENTRY, of the same SHAPE too.
-        x = Check.loaded(100, "function main(a,b){o=new();o.p=1;o.q=1;i=0;while(i<2){if(i==0){k=\"p\";}else{k=\"q\";}"
+        x = Check.loaded(100, "function main(a,b){o=new();o.p=1;o.q=1;i=0;while(i<6){if(i/2*2==i){k=\"p\";}else{k=\"q\";}"
                 + "o[k]=o[k];i=i+1;}}");
         x.start(0, 0);
         x.run(100);
-        // 2 o, 5 PUT, 8 PUT, 11 i, 13 WHILE, 14 < 15 16, 17 IF 18 19 20, 21 k 22, 23 k 24, 25 PUT 26 27, 28 GET
-        entries3(x, 25, new int[] {2, 2, NONE}, new int[] {2, 2, NONE});
-        entries3(x, 28, new int[] {2, 2, NONE}, new int[] {NONE, NONE, NONE});
+        // 2 o, 5 PUT, 8 PUT, 11 i, 13 WHILE 14 15 16, 17 IF 18 19 20 21 22 23 24, 25 k 26, 27 k 28, 29 PUT, 32 GET
+        entries3(x, 29, new int[] {2, 2, NONE}, new int[] {2, 2, NONE});
+        entries3(x, 32, new int[] {2, 2, NONE}, new int[] {NONE, NONE, NONE});
+        Check.due("changes of the put", x.node(4, 29, 3), 2);
+        Check.due("changes of the get", x.node(4, 32, 3), 2);
     }
 
     private static void entries3(GraftTrees x, int k, int[] ahead, int[] behind) {

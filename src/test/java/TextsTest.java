@@ -102,6 +102,10 @@ final class TextsTest {
         x.start(1, 0);
         x.run(99);
         Check.due("it says the same", Check.outcome(x), "1");
+        x.load(Check.feed(x, "function f(){1;}function g(){2;}function h(){3;}"));
+        x.load(Check.feed(x, "function f(){1;}"));
+        Check.due("a root that is gone", x.root(5, 0), NONE);
+        Check.due("its node", x.node(5, 0, 0), NONE);
     }
 
     private static void faulty(String text, int number, int place) {
