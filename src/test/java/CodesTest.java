@@ -485,6 +485,20 @@ final class CodesTest {
         Check.due("g changed: main has it as a unit", x.code(0, 1), 0);
         Check.due("f's code stays", x.code(1, 1), 1);
         Check.due("heat of f", x.root(5, 2), 1);
+        // g's first PUT is OPEN; the SHAPE that its second one makes OBSOLETE is in no ENTRY of main or g.
+        x = Check.loaded(1, "function main(a,b){o=new();o.p=1;g(a,b);return o.p;}function g(a,b){p=new();p[\"k\"+b]=1;"
+                + "if(a==1){p[\"k\"+b]=9223372036854775807+1;}}");
+        for (int b = 0; b < 4; b++) {
+            runAll(x, 0, b);
+        }
+        runAll(x, 1, 9);
+        Check.due("main", x.compile(), 4);
+        Check.due("g is a unit", x.code(0, 11), 5);
+        int shapes = x.total(6);
+        runAll(x, 1, 10);
+        Check.due("a shape and its heir came", x.total(6), shapes + 2);
+        Check.due("main's code stays", x.code(0, 1), 1);
+        Check.due("entered", x.code(0, 5), 1);
         x = Check.loaded(1, "function main(a,b){f();if(a==1){define(\"function h(){}\");}2;}function f(){print(1);}");
         runAll(x, 1, 0);
         runAll(x, 0, 0);

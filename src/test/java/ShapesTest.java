@@ -71,6 +71,12 @@ final class ShapesTest {
         shape(x, 6, 5, 1, NONE, 4, "d");
         Check.due("shapes", x.total(6), 7);
         Check.due("moves", x.total(13), 1);
+        // The SORT of that PROPERTY counts, whatever the last one's is.
+        x = Check.ran("function main(){o=new();o.a=1;o.b=null;o.a=null;p=new();p.a=null;p.b=1;p.a=true;}");
+        shape(x, 2, 1, 3, 4, 2, "b");
+        shape(x, 4, 3, 3, NONE, 2, "b");
+        shape(x, 5, 3, 1, NONE, 2, "b");
+        Check.due("shapes", x.total(6), 6);
         // By a PROPERTY of SORT 3 all stays.
         x = Check.ran("function main(){o=new();o.a=null;o.a=1;o.a=\"s\";o.a=new();}");
         Check.due("shapes", x.total(6), 2);

@@ -235,7 +235,23 @@ final class StatesTest {
         entries(x, 6, 1, 3, NONE);
         Check.due("one change for both", x.node(4, 9, 3), 2);
         Check.due("entries of other kinds", x.node(4, 2, 4), 0);
-        Check.due("shape behind, of a call", x.node(4, 9, 8), NONE);
+        // Those that stay go up.
+        x = Check.loaded(100, "function main(a,b){if(a==1){define(\"function g(){}\");}f=g;if(b==1){f=h;}f();}"
+                + "function g(){}function h(){}");
+        // 2 IF 3 4 5 6 CALL 7 8, 9 WRITE 10, 11 IF 12 13 14 15 WRITE 16, 17 CALL
+        x.start(0, 0);
+        x.run(100);
+        x.start(0, 1);
+        x.run(100);
+        entries(x, 17, 2, 5, 6);
+        x.start(1, 1);
+        x.run(100);
+        entries(x, 17, 1, 6, NONE);
+        Check.due("changes", x.node(4, 17, 3), 3);
+        x.start(0, 0);
+        x.run(100);
+        entries(x, 17, 2, 6, 7);
+        Check.due("shape behind, of a call", x.node(4, 17, 8), NONE);
     }
 
     private static void entries(GraftTrees x, int k, int count, int first, int second) {

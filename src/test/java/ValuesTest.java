@@ -119,6 +119,16 @@ final class ValuesTest {
         Check.says("return 1-100000000000000000000;", "-99999999999999999999");
         Check.says("x=100000000000000000000;return x*3+\" \"+x*7+\" \"+x/3*(0-5);",
                 "300000000000000000000 700000000000000000000 -166666666666666666665");
+        Check.says("return 999999999999999999999999999999999999/3;", "333333333333333333333333333333333333");
+        Check.says("return 100000000000000000000000000000000000/7;", "14285714285714285714285714285714285");
+        Check.says("return 123456789012345678901234567890/9;", "13717421001371742100137174210");
+        Check.says("return 999999999999999999999999999999999999/1000000000000000000;", "999999999999999999");
+        Check.says("return 999999999999999999999999999999999999/999999999;", "1000000001000000001000000001");
+        Check.says("return 987654321098765432109876543210987654/1000000001;", "987654320111111111998765431");
+        Check.says("return 500000000000000000000000000000000000/100000000000000000000000000000000000;", "5");
+        Check.says("return 999999999999999999999999999999999999/999999999999999999999999999999999998;", "1");
+        Check.says("return 4000000003000000000000000000/1000000000;", "4000000003000000000");
+        Check.says("return 999999998000000001000000000/999999999;", "999999999000000000");
         Check.says("return 1/0;", "E2@3");
         Check.says("x=100000000000000000000;return 1/(x-x);", "E2@5");
         Check.says("return null/0;", "E1@3");
@@ -155,6 +165,8 @@ final class ValuesTest {
         Check.says("return (1<2)+\"\"+(2<2)+(2<=2)+(1>2)+(2>1)+(2>=3)+(2>=2);", "truefalsetruefalsetruefalsetrue");
         Check.says("return 100000000000000000000>99999999999999999999;", "true");
         Check.says("return 0-100000000000000000000<1;", "true");
+        Check.says("return (100000000000000000000<100000000000000000001)+\"\"+(100000000000000000001==100000000000000000000);",
+                "truefalse");
         Check.says("return \"a\"<\"b\";", "E1@3");
         Check.says("return null<1;", "E1@3");
         Check.says("return true>=false;", "E1@3");
@@ -191,6 +203,8 @@ final class ValuesTest {
                 + "function app(g,x){return g(x);}function main(){h=f;return app(h,app(f,5));}")), "7");
         Check.due("end of a block", Check.outcome(Check.ran("function f(){return;}function g(){1;}"
                 + "function main(){return f()==g();}")), "true");
+        Check.due("null of a block's end", Check.outcome(Check.ran("function f(){1;}function g(){}function h(){return;}"
+                + "function main(){return \"a\"+f()+1+g()+h();}")), "anull1nullnull");
         Check.due("a call of what is called", Check.outcome(Check.ran("function f(){return g;}function g(x){return x;}"
                 + "function main(){return f()(8);}")), "8");
         Check.due("each activation has its own locals", Check.outcome(Check.ran("function f(n){if(n==0){return 1;}"
