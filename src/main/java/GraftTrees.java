@@ -1790,12 +1790,13 @@ public final class GraftTrees {
 
         int tell(int k, int what) {
             boolean hasLocal = kind[k] == PARAM || kind[k] == READ || kind[k] == WRITE;
+            boolean hasEntries = kind[k] == GET || kind[k] == PUT || kind[k] == CALL;
             switch (what) {
                 case 0: return kind[k];
                 case 1: return place[k];
                 case 2: return state[k];
                 case 3: return changed[k];
-                case 4: return entries[k];
+                case 4: return hasEntries ? entries[k] : NONE;
                 case 5: case 6: case 7: return what - 5 < entries[k] ? entryAhead(k, what - 5) : NONE;
                 case 8: case 9: case 10:
                     return kind[k] == PUT && what - 8 < entries[k] ? entryBehind(k, what - 8) : NONE;

@@ -13,6 +13,7 @@ final class StatesTest {
         tags();
         calls();
         getsAndPuts();
+        entriesOfKinds();
         errorsChangeNothing();
         made();
         stays();
@@ -234,7 +235,6 @@ final class StatesTest {
         entries(x, 9, 1, 6, NONE);
         entries(x, 6, 1, 3, NONE);
         Check.due("one change for both", x.node(4, 9, 3), 2);
-        Check.due("entries of other kinds", x.node(4, 2, 4), 0);
         // Those that stay go up.
         x = Check.loaded(100, "function main(a,b){if(a==1){define(\"function g(){}\");}f=g;if(b==1){f=h;}f();}"
                 + "function g(){}function h(){}");
@@ -288,6 +288,32 @@ final class StatesTest {
         entries3(x, 32, new int[] {2, 2, NONE}, new int[] {NONE, NONE, NONE});
         Check.due("changes of the put", x.node(4, 29, 3), 2);
         Check.due("changes of the get", x.node(4, 32, 3), 2);
+    }
+
+    /** GET, PUT and CALL alone have ENTRIES, none at first; of all other KINDS there is no count of them. */
+    private static void entriesOfKinds() {
+        GraftTrees x = Check.loaded(100, "function main(a,b){i=0;o=new();o.p=\"s\";t=true;f=kind;f(null);"
+                + "while(i<2){i=i+1*2/1-1;if(i<=1&&1>=i||i>1){o.p;continue;}break;}"
+                + "if(!(i==1)){i!=2;}return o[\"p\"];}");
+        boolean[] seen = new boolean[29];
+        for (int k = 0; k < x.root(4, 0); k++) {
+            int kind = x.node(4, k, 0);
+            seen[kind] = true;
+            Check.due("entries at first, kind " + kind, x.node(4, k, 4), kind >= 21 && kind <= 23 ? 0 : NONE);
+        }
+        for (int kind = 0; kind < 29; kind++) {
+            Check.due("kind " + kind + " is there", seen[kind], true);
+        }
+        x.start(0, 0);
+        x.run(100);
+        Check.due("it ended", x.state(), 2);
+        for (int k = 0; k < x.root(4, 0); k++) {
+            int kind = x.node(4, k, 0);
+            Check.due("entries then, kind " + kind, x.node(4, k, 4), kind >= 21 && kind <= 23 ? 1 : NONE);
+            for (int what = 5; what < 11 && (kind < 21 || kind > 23); what++) {
+                Check.due("what " + what + " of kind " + kind, x.node(4, k, what), NONE);
+            }
+        }
     }
 
     private static void entries3(GraftTrees x, int k, int[] ahead, int[] behind) {
