@@ -34,7 +34,7 @@ final class Check {
     }
 
     /** Puts the text on the tape, with blanks up to the next twenty bytes; answers how many bytes it has itself. */
-    static int feed(GraftTrees x, String text) {
+    static int feed(Trees x, String text) {
         byte[] bytes = text.getBytes(StandardCharsets.ISO_8859_1);
         for (int i = 0; i < bytes.length; i += 20) {
             x.feed(four(bytes, i), four(bytes, i + 4), four(bytes, i + 8), four(bytes, i + 12), four(bytes, i + 16));
@@ -50,8 +50,8 @@ final class Check {
         return sum;
     }
 
-    static GraftTrees loaded(int threshold, String text) {
-        GraftTrees x = new GraftTrees(threshold);
+    static Trees loaded(int threshold, String text) {
+        Trees x = new Trees(threshold);
         int bytes = feed(x, text);
         if (x.load(bytes) == GraftTrees.NONE) {
             wrong++;
@@ -61,31 +61,35 @@ final class Check {
     }
 
     /** A new object whose program has run to its end. */
-    static GraftTrees ran(String text) {
-        GraftTrees x = loaded(100, text);
+    static Trees ran(String text) {
+        Trees x = loaded(100, text);
         x.start(3, 4);
         x.run(20001);
         return x;
     }
 
-    static String result(GraftTrees x) {
+    static String result(Trees x) {
         StringBuilder letters = new StringBuilder();
-        for (int i = 0; x.result(i) != GraftTrees.NONE; i++) {
-            letters.append((char) x.result(i));
+        int letter = x.result(0);
+        while (letter != GraftTrees.NONE) {
+            letters.append((char) letter);
+            letter = x.result(letters.length());
         }
         return letters.toString();
     }
 
-    static String out(GraftTrees x) {
+    static String out(Trees x) {
         StringBuilder letters = new StringBuilder();
-        for (int i = 0; x.out(i) != GraftTrees.NONE; i++) {
-            letters.append((char) x.out(i));
+        int letter = x.out(0);
+        while (letter != GraftTrees.NONE) {
+            letters.append((char) letter);
+            letter = x.out(letters.length());
         }
         return letters.toString();
     }
 
     /** The result, or E, the ERROR's number, @ and its NODE. */
-    static String outcome(GraftTrees x) {
+    static String outcome(Trees x) {
         switch (x.state()) {
             case 2: return result(x);
             case 3: return "E" + x.error(0) + "@" + x.error(2);

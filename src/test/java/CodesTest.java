@@ -25,7 +25,7 @@ final class CodesTest {
         Check.end("CodesTest");
     }
 
-    private static void runAll(GraftTrees x, long a, long b) {
+    private static void runAll(Trees x, long a, long b) {
         x.start(a, b);
         x.run(20001);
     }
@@ -34,7 +34,7 @@ final class CodesTest {
         int[] given = {Integer.MIN_VALUE, 0, 1, 3, 100, 101, Integer.MAX_VALUE};
         int[] wanted = {1, 1, 1, 3, 100, 100, 100};
         for (int i = 0; i < given.length; i++) {
-            GraftTrees x = Check.loaded(given[i], "function main(){}");
+            Trees x = Check.loaded(given[i], "function main(){}");
             int starts = 0;
             while (x.total(8) == 0 && starts < 200) {
                 x.start(0, 0);
@@ -45,7 +45,7 @@ final class CodesTest {
     }
 
     private static void heatAndQueue() {
-        GraftTrees x = Check.loaded(3, "function main(a,b){i=0;while(i<a){f(i);i=i+1;}}function f(x){}");
+        Trees x = Check.loaded(3, "function main(a,b){i=0;while(i<a){f(i);i=i+1;}}function f(x){}");
         Check.due("compile", x.compile(), NONE);
         runAll(x, 2, 0);
         // main 1 and twice E again; f two calls
@@ -86,7 +86,7 @@ final class CodesTest {
     }
 
     private static void notNewestInQueue() {
-        GraftTrees x = Check.loaded(1, "function main(a,b){f();if(a==1){define(\"function f(){}\");}}function f(){}");
+        Trees x = Check.loaded(1, "function main(a,b){f();if(a==1){define(\"function f(){}\");}}function f(){}");
         runAll(x, 0, 0);
         runAll(x, 1, 0);
         Check.due("queue", x.total(8), 2);
@@ -106,7 +106,7 @@ final class CodesTest {
 
     private static void eightCodes() {
         // The first RUN ends main's CODE, as f is DEFINED again, the second one queues main again.
-        GraftTrees x = Check.loaded(1, "function main(a,b){define(\"function f(){}\");f();}");
+        Trees x = Check.loaded(1, "function main(a,b){define(\"function f(){}\");f();}");
         for (int i = 1; i <= 8; i++) {
             runAll(x, 0, 0);
             runAll(x, 0, 0);
@@ -122,9 +122,10 @@ final class CodesTest {
         Check.due("heat grows on", x.root(4, 2), 1);
     }
 
-    private static void compileAll(GraftTrees x) {
-        for (int i = 0; i < 60; i++) {
-            x.compile();
+    private static void compileAll(Trees x) {
+        int made = x.compile();
+        while (made != NONE) {
+            made = x.compile();
         }
     }
 
@@ -138,7 +139,7 @@ final class CodesTest {
         for (int i = 0; i < 13; i++) {
             text.append("function f").append((char) ('a' + i)).append("(){g();}");
         }
-        GraftTrees x = Check.loaded(1, text.toString());
+        Trees x = Check.loaded(1, text.toString());
         int made = 0;
         for (int i = 0; i < 8; i++) {
             x.start(0, 0);
@@ -156,7 +157,7 @@ final class CodesTest {
     }
 
     private static int guardsOf(String text, long a, long b, int root) {
-        GraftTrees x = Check.loaded(1, text);
+        Trees x = Check.loaded(1, text);
         x.start(a, b);
         x.run(20001);
         for (int i = 0; i < 9; i++) {
@@ -197,7 +198,7 @@ final class CodesTest {
     }
 
     private static void units() {
-        GraftTrees x = Check.loaded(1, "function main(a,b){f();g();f();}function f(){g();}function g(){h();}"
+        Trees x = Check.loaded(1, "function main(a,b){f();g();f();}function f(){g();}function g(){h();}"
                 + "function h(){k();}function k(){}");
         runAll(x, 0, 0);
         Check.due("compile", x.compile(), 4);
@@ -230,7 +231,7 @@ final class CodesTest {
 
     private static void unitLimits() {
         // A ROOT that lies in itself is not INLINED, nor one that was never called, nor print.
-        GraftTrees x = Check.loaded(1, "function main(a,b){f(2);print(1);if(a==9){g();}}"
+        Trees x = Check.loaded(1, "function main(a,b){f(2);print(1);if(a==9){g();}}"
                 + "function f(n){if(n>0){h(n);}}function h(n){f(n-1);}function g(){}");
         runAll(x, 0, 0);
         Check.due("compile", x.compile(), 4);
@@ -269,7 +270,7 @@ final class CodesTest {
     }
 
     private static void entering() {
-        GraftTrees x = Check.loaded(1, "function main(a,b){f(a);}function f(n){n+1;}");
+        Trees x = Check.loaded(1, "function main(a,b){f(a);}function f(n){n+1;}");
         runAll(x, 1, 0);
         // Node 0 of f stays as it is, so both CODES stay VALID.
         Check.due("compile main", x.compile(), 4);
@@ -296,7 +297,7 @@ final class CodesTest {
     }
 
     private static void enteringInLoop() {
-        GraftTrees x = Check.loaded(1, "function main(a,b){i=0;while(i<a){i=i+1;}return i;}");
+        Trees x = Check.loaded(1, "function main(a,b){i=0;while(i<a){i=i+1;}return i;}");
         x.start(5, 0);
         x.run(3);
         Check.due("compile while it runs", x.compile(), 4);
@@ -320,7 +321,7 @@ final class CodesTest {
     }
 
     private static void exitByParam() {
-        GraftTrees x = Check.loaded(1, "function main(a,b){if(a==1){f(true);}else{f(a);}}function f(p){1;}");
+        Trees x = Check.loaded(1, "function main(a,b){if(a==1){f(true);}else{f(a);}}function f(p){1;}");
         runAll(x, 0, 0);
         Check.due("main", x.compile(), 4);
         Check.due("f", x.compile(), 5);
@@ -340,7 +341,7 @@ final class CodesTest {
     }
 
     private static void exitOfInlined() {
-        GraftTrees x = Check.loaded(1, "function main(a,b){f(a);1;}function f(p){p+1;2;}");
+        Trees x = Check.loaded(1, "function main(a,b){f(a);1;}function f(p){p+1;2;}");
         runAll(x, 0, 0);
         Check.due("main", x.compile(), 4);
         Check.due("f", x.compile(), 5);
@@ -366,7 +367,7 @@ final class CodesTest {
 
     private static void inlining() {
         // A CALL that changes leaves the FRAME first: what it calls is not INLINED.
-        GraftTrees x = Check.loaded(1, "function main(a,b){g=f;if(a==1){g=h;}g();}function f(){1;}function h(){1;}");
+        Trees x = Check.loaded(1, "function main(a,b){g=f;if(a==1){g=h;}g();}function f(){1;}function h(){1;}");
         runAll(x, 0, 0);
         runAll(x, 1, 0);
         Check.due("two entries", x.node(4, 10, 4), 2);
@@ -386,7 +387,7 @@ final class CodesTest {
     private static void fallByDefine() {
         String text = "function main(a,b){i=0;while(i<9){i=i+1;if(i==2){f();}if(i==a){define(\"function f(){}\");}}}"
                 + "function f(){1;}";
-        GraftTrees x = Check.loaded(1, text);
+        Trees x = Check.loaded(1, text);
         // The first RUN meets both ways of each IF, the second one has the newest f as its ENTRY.
         runAll(x, 3, 0);
         runAll(x, 20, 0);
@@ -413,7 +414,7 @@ final class CodesTest {
     }
 
     private static void fallByShape() {
-        GraftTrees x = Check.loaded(1, "function main(a,b){o=new();o[k(b)]=1;g=other;if(a==1){g=set;}g(o,k(b));1;}"
+        Trees x = Check.loaded(1, "function main(a,b){o=new();o[k(b)]=1;g=other;if(a==1){g=set;}g(o,k(b));1;}"
                 + "function k(b){return \"p\"+b;}function set(o,k){o[k]=9223372036854775807+1;3;}"
                 + "function other(o,k){4;}");
         // g's CALL has two ENTRIES then, so set is not INLINED; the last RUN takes the STALE ENTRY of the PUT away.
@@ -443,7 +444,7 @@ final class CodesTest {
 
     private static void inlinedInCodeThatEnded() {
         // x is BIG. The second PUT makes the SHAPE of main's ENTRIES OBSOLETE: its CODE ends, but no NODE changes.
-        GraftTrees x = Check.loaded(1, "function main(a,b){x=9223372036854775807+1;o=new();o[k(b)]=1;"
+        Trees x = Check.loaded(1, "function main(a,b){x=9223372036854775807+1;o=new();o[k(b)]=1;"
                 + "if(a==1){f(o[k(b)]=x);2;}}function f(v){1;3;}function k(b){return \"p\"+b;}");
         runAll(x, 1, 0);
         runAll(x, 0, 1);
@@ -475,7 +476,7 @@ final class CodesTest {
 
     /** What a CODE does not rest on is no matter to it. */
     private static void codesThatStay() {
-        GraftTrees x = Check.loaded(1, "function main(a,b){o=new();o.p=1;f();g();}function f(){1;}"
+        Trees x = Check.loaded(1, "function main(a,b){o=new();o.p=1;f();g();}function f(){1;}"
                 + "function g(){define(\"function h(){}\");p=new();p.q=1;p.q=null;}");
         runAll(x, 0, 0);
         Check.due("main", x.compile(), 4);
@@ -511,7 +512,7 @@ final class CodesTest {
 
     private static void endOfSeveral() {
         // A NODE that is in several CODES ends them all.
-        GraftTrees x = Check.loaded(1, "function main(a,b){g(a);}function g(n){return f(n);}function f(n){return n+1;}");
+        Trees x = Check.loaded(1, "function main(a,b){g(a);}function g(n){return f(n);}function f(n){return n+1;}");
         runAll(x, 1, 0);
         Check.due("main", x.compile(), 4);
         Check.due("g", x.compile(), 5);
@@ -530,7 +531,7 @@ final class CodesTest {
 
     private static void ownFunctionDefined() {
         // print is no UNIT, but an ENTRY.
-        GraftTrees x = Check.loaded(1, "function main(a,b){print(1);if(a==1){define(\"function print(x){}\");}2;3;}");
+        Trees x = Check.loaded(1, "function main(a,b){print(1);if(a==1){define(\"function print(x){}\");}2;3;}");
         runAll(x, 0, 0);
         runAll(x, 1, 0);
         // Both ways of the IF are met now; print's ENTRY is STALE.

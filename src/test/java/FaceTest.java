@@ -41,7 +41,7 @@ final class FaceTest {
     }
 
     private static void newObject() {
-        GraftTrees x = new GraftTrees(5);
+        Trees x = new Trees(5);
         Check.due("state", x.state(), 0);
         Check.due("load of nothing", x.load(1), -2);
         Check.due("fault", x.fault(0), 0);
@@ -71,7 +71,7 @@ final class FaceTest {
     }
 
     private static void totals() {
-        GraftTrees x = new GraftTrees(5);
+        Trees x = new Trees(5);
         int[] wanted = {0, 0, 0, 0, 0, 4, 1, 0, 0, 0, 0, 0, 0, 0, 0, 0};
         for (int what = 0; what < 16; what++) {
             Check.due("total " + what, x.total(what), wanted[what]);
@@ -107,8 +107,8 @@ final class FaceTest {
             "function main(a,b){i=0;while(i<9){f(i);i=i+1;}return i;}function f(x){o=new();o.p=x;return o.p;}",
             "function main(a,b){return a/b;}", "function main(){main();}", "function f(){", "$"};
         for (int round = 0; round < 300; round++) {
-            GraftTrees x = new GraftTrees(random.nextInt());
-            for (int i = 0; i < 200; i++) {
+            Trees x = new Trees(random.nextInt());
+            while (x.callsLeft() > 20) {
                 anyCall(x, random, texts);
             }
             Check.due("state is one of four", x.state() >= 0 && x.state() <= 3, true);
@@ -120,7 +120,7 @@ final class FaceTest {
         return random.nextInt(3) == 0 ? edges[random.nextInt(edges.length)] : random.nextInt(40);
     }
 
-    private static void anyCall(GraftTrees x, Random random, String[] texts) {
+    private static void anyCall(Trees x, Random random, String[] texts) {
         switch (random.nextInt(20)) {
             case 0: x.feed(some(random), some(random), some(random), some(random), some(random)); break;
             case 1: x.load(some(random)); break;
@@ -155,30 +155,33 @@ final class FaceTest {
                 + "function mk(v){o=new();o.p=v;o.q=1;return o;}function get(o){return o.p;}"
                 + "function set(o,v){if(v==17){o.q=\"q\";return v;}o.p=v;return v;}"
                 + "function twice(n){if(n>35){return n*9223372036854775807;}return n+n;}";
-        GraftTrees plain = Check.loaded(100, text);
+        Trees plain = Check.loaded(100, text);
         plain.start(5, 0);
         plain.run(20001);
-        for (int stride = 3; stride < 14; stride++) {
-            GraftTrees x = Check.loaded(1, text);
+        String outcome = Check.outcome(plain);
+        String out = Check.out(plain);
+        int steps = plain.total(0);
+        int changes = plain.total(9);
+        Check.due("not entered", plain.total(10), 0);
+        for (int stride = 5; stride < 16; stride++) {
+            Trees x = Check.loaded(1, text);
             x.start(5, 0);
-            for (int i = 0; i < 200; i++) {
-                x.run(stride);
+            while (x.run(stride) == stride) {
                 x.compile();
             }
-            Check.due("outcome by " + stride, Check.outcome(x), Check.outcome(plain));
-            Check.due("out by " + stride, Check.out(x), Check.out(plain));
-            Check.due("steps by " + stride, x.total(0), plain.total(0));
-            Check.due("changes by " + stride, x.total(9), plain.total(9));
+            Check.due("outcome by " + stride, Check.outcome(x), outcome);
+            Check.due("out by " + stride, Check.out(x), out);
+            Check.due("steps by " + stride, x.total(0), steps);
+            Check.due("changes by " + stride, x.total(9), changes);
             Check.due("entered by " + stride, x.total(10) > 0, true);
-            Check.due("not entered", plain.total(10), 0);
         }
     }
 
     /** What a load brings takes the place of all that was, however often. */
     private static void manyLoads() {
-        GraftTrees x = new GraftTrees(1);
+        Trees x = new Trees(1);
         String text = "function main(a,b){i=0;while(true){define(\"function longerName\"+i+\"(){return 1+\"+i+\";}\");i=i+1;}}";
-        for (int i = 0; i < 60; i++) {
+        for (int i = 0; i < 30; i++) {
             Check.due("load", x.load(Check.feed(x, text)), 5);
             x.start(0, 0);
             x.run(20001);

@@ -18,7 +18,7 @@ final class ShapesTest {
     }
 
     /** PARENT, SORT, HEIR, how many PROPERTIES, the last one's letters. */
-    private static void shape(GraftTrees x, int s, int parent, int sort, int heir, int size, String word) {
+    private static void shape(Trees x, int s, int parent, int sort, int heir, int size, String word) {
         Check.due("parent of " + s, x.shape(s, 0), parent);
         Check.due("sort of " + s, x.shape(s, 1), sort);
         Check.due("heir of " + s, x.shape(s, 2), heir);
@@ -31,7 +31,7 @@ final class ShapesTest {
     }
 
     private static void children() {
-        GraftTrees x = Check.ran("function main(){o=new();o.first=1;o[\"second \"+1]=true;p=new();p.first=2;"
+        Trees x = Check.ran("function main(){o=new();o.first=1;o[\"second \"+1]=true;p=new();p.first=2;"
                 + "q=new();q.first=\"s\";r=new();r.first=9223372036854775808;r.x=null;}");
         Check.due("shapes", x.total(6), 5);
         shape(x, 0, NONE, NONE, NONE, 0, "");
@@ -49,7 +49,7 @@ final class ShapesTest {
     }
 
     private static void wrongInputs() {
-        GraftTrees x = new GraftTrees(1);
+        Trees x = new Trees(1);
         shape(x, 0, NONE, NONE, NONE, 0, "");
         Check.due("shape 1", x.shape(1, 3), NONE);
         Check.due("shape -1", x.shape(-1, 3), NONE);
@@ -62,7 +62,7 @@ final class ShapesTest {
 
     private static void heirs() {
         // 1 a, 2 ab, 3 abc of longs; the PUT makes 3 OBSOLETE: a, ab of 3, abc.
-        GraftTrees x = Check.ran("function main(){o=new();o.a=1;o.b=2;o.c=3;o.b=\"s\";o.d=4;return o.a+o.b+o.c+o.d;}");
+        Trees x = Check.ran("function main(){o=new();o.a=1;o.b=2;o.c=3;o.b=\"s\";o.d=4;return o.a+o.b+o.c+o.d;}");
         Check.due("values", Check.outcome(x), "1s34");
         shape(x, 3, 2, 1, 5, 3, "c");
         shape(x, 2, 1, 1, NONE, 2, "b");
@@ -85,7 +85,7 @@ final class ShapesTest {
 
     private static void heirOfObsoleteChild() {
         // p's CHILD by a LONG is OBSOLETE: its HEIR instead, without a MOVE.
-        GraftTrees x = Check.ran("function main(){o=new();o.a=1;o.a=\"s\";p=new();p.a=2;p.b=1;}");
+        Trees x = Check.ran("function main(){o=new();o.a=1;o.a=\"s\";p=new();p.a=2;p.b=1;}");
         shape(x, 1, 0, 1, 2, 1, "a");
         shape(x, 2, 0, 3, NONE, 1, "a");
         shape(x, 3, 2, 1, NONE, 2, "b");
@@ -96,7 +96,7 @@ final class ShapesTest {
     }
 
     private static void moves() {
-        GraftTrees x = Check.loaded(100, "function main(){o=new();o.a=1;p=new();p.a=1;q=new();q.a=1;o.a=\"s\";"
+        Trees x = Check.loaded(100, "function main(){o=new();o.a=1;p=new();p.a=1;q=new();q.a=1;o.a=\"s\";"
                 + "f();p.a;f();q.b=1;f();p.z;}function f(){1;}");
         x.start(0, 0);
         x.run(8);
@@ -116,7 +116,7 @@ final class ShapesTest {
 
     private static void chainOfHeirs() {
         // ab of longs becomes OBSOLETE, then its HEIR does: o moves once and once more, p twice at once.
-        GraftTrees x = Check.ran("function main(){o=new();o.a=1;o.b=1;p=new();p.a=1;p.b=1;o.a=null;o.b=null;return p.b;}");
+        Trees x = Check.ran("function main(){o=new();o.a=1;o.b=1;p=new();p.a=1;p.b=1;o.a=null;o.b=null;return p.b;}");
         shape(x, 2, 1, 1, 4, 2, "b");
         shape(x, 3, 0, 3, NONE, 1, "a");
         shape(x, 4, 3, 1, 5, 2, "b");
@@ -132,7 +132,7 @@ final class ShapesTest {
     }
 
     private static void obsoletePutLeavesItsNode() {
-        GraftTrees x = Check.ran("function main(){o=new();o.a=1;o.a=\"s\";}");
+        Trees x = Check.ran("function main(){o=new();o.a=1;o.a=\"s\";}");
         // 6 PUT
         Check.due("entries", x.node(4, 6, 4), 0);
         Check.due("changes", x.node(4, 6, 3), 0);
@@ -144,7 +144,7 @@ final class ShapesTest {
     }
 
     private static void staleEntries() {
-        GraftTrees x = Check.loaded(100, "function main(a,b){o=new();o.p=1;if(a==1){o.p=true;}return o.p;}");
+        Trees x = Check.loaded(100, "function main(a,b){o=new();o.p=1;if(a==1){o.p=true;}return o.p;}");
         // 2 WRITE 3 4, 5 PUT 6 7, 8 IF 9 10 11 12 PUT 13 14, 15 RETURN 16 GET 17
         x.start(0, 0);
         x.run(100);
@@ -164,7 +164,7 @@ final class ShapesTest {
     }
 
     private static void twoHundred() {
-        GraftTrees x = Check.ran("function main(a,b){i=0;while(true){o=new();o[\"k\"+i]=i;i=i+1;}}");
+        Trees x = Check.ran("function main(a,b){i=0;while(true){o=new();o[\"k\"+i]=i;i=i+1;}}");
         Check.due("error", x.error(0), 9);
         Check.due("at the put", x.node(4, x.error(2), 0), 22);
         Check.due("shapes", x.total(6), 200);
@@ -178,7 +178,7 @@ final class ShapesTest {
 
     /** However long the PROPERTIES are, each load has place for those of 200 SHAPES. */
     private static void longProperties() {
-        GraftTrees x = new GraftTrees(100);
+        Trees x = new Trees(100);
         String text = "function main(a,b){s=\"0123456789012345678901234567890123456789\";s=s+s+s+s;i=100;"
                 + "while(i<299){o=new();o[s+\"012345678901234567890123456789abcdefg\"+i]=1;i=i+1;}}";
         for (int load = 0; load < 3; load++) {
@@ -197,7 +197,7 @@ final class ShapesTest {
 
     private static void heirNeedsSeveral() {
         // 1 p, 2 pq, 3 pqr; 196 more: with 199 there the HEIR of pqr by p needs 3.
-        GraftTrees x = Check.loaded(100, "function main(a,b){o=new();o.p=1;o.q=1;o.r=1;i=0;while(i<a){n=new();"
+        Trees x = Check.loaded(100, "function main(a,b){o=new();o.p=1;o.q=1;o.r=1;i=0;while(i<a){n=new();"
                 + "n[\"k\"+i]=i;i=i+1;}o.p=null;return i;}");
         x.start(194, 0);
         x.run(20001);

@@ -22,7 +22,7 @@ final class StatesTest {
 
     /** What STATE a NODE of main has when main has been run with each pair of numbers. */
     private static void state(String body, int k, int want, long... args) {
-        GraftTrees x = Check.loaded(100, "function main(a,b){" + body + "}");
+        Trees x = Check.loaded(100, "function main(a,b){" + body + "}");
         for (int i = 0; i + 1 < args.length; i += 2) {
             x.start(args[i], args[i + 1]);
             x.run(20001);
@@ -80,7 +80,7 @@ final class StatesTest {
         state("a==null;", 2, 8, 0, 0);
         String body = "x=a;if(b==1){x=true;}if(b==2){x=\"s\";}if(b==3){x=null;}x==x;";
         // 2 WRITE, 3, 4 IF .. 9, 10 IF .. 15, 16 IF ..
-        GraftTrees x = Check.loaded(100, "function main(a,b){" + body + "}");
+        Trees x = Check.loaded(100, "function main(a,b){" + body + "}");
         int[] wanted = {1, 3, 7, 8};
         for (int b = 0; b < 4; b++) {
             x.start(5, b);
@@ -118,7 +118,7 @@ final class StatesTest {
     }
 
     private static void localSorts() {
-        GraftTrees x = Check.loaded(100, "function main(a,b){x=a;y=true;z=null;x=1;if(b==1){x=true;}if(b==2){y=false;}x=2;}");
+        Trees x = Check.loaded(100, "function main(a,b){x=a;y=true;z=null;x=1;if(b==1){x=true;}if(b==2){y=false;}x=2;}");
         Check.due("sort of a local without any", x.root(4, 10), 0);
         x.start(1, 0);
         x.run(100);
@@ -157,7 +157,7 @@ final class StatesTest {
     }
 
     private static void tags() {
-        GraftTrees x = Check.loaded(100, "function main(a,b){x=a;y=true;f();x;y;z;z=1;f();z;f();}function f(){1;}");
+        Trees x = Check.loaded(100, "function main(a,b){x=a;y=true;f();x;y;z;z=1;f();z;f();}function f(){1;}");
         x.start(1, 2);
         int[] first = {1, 1, 3, 3, 3};
         for (int i = 0; i < 5; i++) {
@@ -201,7 +201,7 @@ final class StatesTest {
     }
 
     private static void calls() {
-        GraftTrees x = Check.loaded(100, "function main(a,b){f=g;if(a==1){f=h;}if(a==2){f=k;}f();}"
+        Trees x = Check.loaded(100, "function main(a,b){f=g;if(a==1){f=h;}if(a==2){f=k;}f();}"
                 + "function g(){}function h(){}function k(){}");
         // 2 WRITE 3, 4 IF 5 6 7 8 9, 10 IF 11 12 13 14 15, 16 CALL 17
         entries(x, 16, 0, NONE, NONE);
@@ -254,14 +254,14 @@ final class StatesTest {
         Check.due("shape behind, of a call", x.node(4, 17, 8), NONE);
     }
 
-    private static void entries(GraftTrees x, int k, int count, int first, int second) {
+    private static void entries(Trees x, int k, int count, int first, int second) {
         Check.due("entries of " + k, x.node(4, k, 4), count);
         Check.due("first entry of " + k, x.node(4, k, 5), first);
         Check.due("second entry of " + k, x.node(4, k, 6), second);
     }
 
     private static void getsAndPuts() {
-        GraftTrees x = Check.loaded(100, "function main(a,b){o=new();if(a>0){o.x=1;}if(a>1){o.y=1;}if(a>2){o.z=1;}"
+        Trees x = Check.loaded(100, "function main(a,b){o=new();if(a>0){o.x=1;}if(a>1){o.y=1;}if(a>2){o.z=1;}"
                 + "o.p=a;return o.p;}");
         // 2 WRITE 3 4, 5 IF 6 7 8 9 PUT 10 11, 12 IF .. 18, 19 IF .. 25, 26 PUT 27 28, 29 RETURN 30 GET 31
         for (int a = 0; a < 3; a++) {
@@ -292,11 +292,13 @@ final class StatesTest {
 
     /** GET, PUT and CALL alone have ENTRIES, none at first; of all other KINDS there is no count of them. */
     private static void entriesOfKinds() {
-        GraftTrees x = Check.loaded(100, "function main(a,b){i=0;o=new();o.p=\"s\";t=true;f=kind;f(null);"
+        String text = "function main(a,b){i=0;o=new();o.p=\"s\";t=true;f=kind;f(null);"
                 + "while(i<2){i=i+1*2/1-1;if(i<=1&&1>=i||i>1){o.p;continue;}break;}"
-                + "if(!(i==1)){i!=2;}return o[\"p\"];}");
+                + "if(!(i==1)){i!=2;}return o[\"p\"];}";
+        Trees x = Check.loaded(100, text);
+        int nodes = x.root(4, 0);
         boolean[] seen = new boolean[29];
-        for (int k = 0; k < x.root(4, 0); k++) {
+        for (int k = 0; k < nodes; k++) {
             int kind = x.node(4, k, 0);
             seen[kind] = true;
             Check.due("entries at first, kind " + kind, x.node(4, k, 4), kind >= 21 && kind <= 23 ? 0 : NONE);
@@ -304,10 +306,11 @@ final class StatesTest {
         for (int kind = 0; kind < 29; kind++) {
             Check.due("kind " + kind + " is there", seen[kind], true);
         }
+        x = Check.loaded(100, text);
         x.start(0, 0);
         x.run(100);
         Check.due("it ended", x.state(), 2);
-        for (int k = 0; k < x.root(4, 0); k++) {
+        for (int k = 0; k < nodes; k++) {
             int kind = x.node(4, k, 0);
             Check.due("entries then, kind " + kind, x.node(4, k, 4), kind >= 21 && kind <= 23 ? 1 : NONE);
             for (int what = 5; what < 11 && (kind < 21 || kind > 23); what++) {
@@ -316,7 +319,7 @@ final class StatesTest {
         }
     }
 
-    private static void entries3(GraftTrees x, int k, int[] ahead, int[] behind) {
+    private static void entries3(Trees x, int k, int[] ahead, int[] behind) {
         for (int i = 0; i < 3; i++) {
             Check.due("entry " + i + " of " + k, x.node(4, k, 5 + i), ahead[i]);
             Check.due("entry " + i + " of " + k + " behind", x.node(4, k, 8 + i), behind[i]);
@@ -328,7 +331,7 @@ final class StatesTest {
         state("a+null;", 2, 0, 1, 0);
         state("999999999999999999999999999999999999+a;", 2, 0, 1, 0);
         state("a<null;", 2, 0, 1, 0);
-        GraftTrees x = Check.ran("function main(a,b){o=new();o.p=1;o.q;}");
+        Trees x = Check.ran("function main(a,b){o=new();o.p=1;o.q;}");
         Check.due("get of what is not there", x.node(4, 8, 4), 0);
         x = Check.ran("function main(a,b){g();}");
         Check.due("call of what is not defined", x.node(4, 2, 4), 0);
@@ -342,7 +345,7 @@ final class StatesTest {
 
     private static void made() {
         // 4 for each number that is BIG: 25,000 of them.
-        GraftTrees x = Check.loaded(100, "function main(a,b){x=100000000000000000000;i=0;while(i<b){" + plus(25)
+        Trees x = Check.loaded(100, "function main(a,b){x=100000000000000000000;i=0;while(i<b){" + plus(25)
                 + "i=i+1;}if(a==1){x+0;}return 1;}");
         x.start(0, 1000);
         x.run(20001);
@@ -388,7 +391,7 @@ final class StatesTest {
     }
 
     private static void stays() {
-        GraftTrees x = Check.loaded(100, "function main(a,b){return a+b;}");
+        Trees x = Check.loaded(100, "function main(a,b){return a+b;}");
         x.start(1, 2);
         x.run(9);
         int changes = x.total(9);

@@ -18,7 +18,7 @@ final class TextsTest {
     }
 
     private static void tape() {
-        GraftTrees x = new GraftTrees(1);
+        Trees x = new Trees(1);
         for (int i = 1; i <= 200; i++) {
             Check.due("feed " + i, x.feed(i, -i, 0, Integer.MIN_VALUE, Integer.MAX_VALUE), i * 20);
         }
@@ -30,13 +30,13 @@ final class TextsTest {
         Check.due("fault", x.fault(0), 1);
         Check.due("the tape is empty then", x.feed(0, 0, 0, 0, 0), 20);
         // The highest byte of each number comes first.
-        GraftTrees y = new GraftTrees(1);
+        Trees y = new Trees(1);
         Check.feed(y, " \n//x\nfunction f(){} ");
         Check.due("load", y.load(20), 5);
     }
 
     private static void loading() {
-        GraftTrees x = Check.loaded(1, "function main(a){x=new();x.p=1;return a+1;}function g(){}");
+        Trees x = Check.loaded(1, "function main(a){x=new();x.p=1;return a+1;}function g(){}");
         Check.due("roots", x.total(5), 6);
         Check.due("fault 0", x.fault(0), 0);
         Check.due("fault 1", x.fault(1), NONE);
@@ -78,7 +78,7 @@ final class TextsTest {
     /** A ROOT has nothing of the one that had its number before. */
     private static void freshNodes() {
         String text = "function main(a,b){o=new();o.p=1;i=0;while(i<3){i=i+a;}return o.p;}";
-        GraftTrees x = Check.loaded(1, text);
+        Trees x = Check.loaded(1, text);
         x.start(1, 0);
         x.run(99);
         Check.due("compile", x.compile(), 4);
@@ -110,7 +110,7 @@ final class TextsTest {
     }
 
     private static void faulty(String text, int number, int place) {
-        GraftTrees x = new GraftTrees(1);
+        Trees x = new Trees(1);
         int bytes = Check.feed(x, text);
         int roots = x.load(bytes);
         Check.due("load of " + text, roots == NONE, number != 0);
@@ -289,7 +289,7 @@ final class TextsTest {
 
     /** The KINDS of a ROOT's NODES and the places of their TOKENS. */
     private static void nodes(String text, int root, String want) {
-        GraftTrees x = Check.loaded(1, text);
+        Trees x = Check.loaded(1, text);
         StringBuilder all = new StringBuilder();
         for (int k = 0; k < x.root(root, 0); k++) {
             all.append(k == 0 ? "" : " ").append(x.node(root, k, 0)).append('@').append(x.node(root, k, 1));
@@ -316,7 +316,7 @@ final class TextsTest {
 
     private static void locals() {
         // b is a LOCAL though it is read ahead of its = ; what is behind a . is none.
-        GraftTrees x = Check.loaded(1, "function f(a){b;c;a.d=1;b=e=2;}");
+        Trees x = Check.loaded(1, "function f(a){b;c;a.d=1;b=e=2;}");
         Check.due("locals", x.root(4, 1), 3);
         Check.due("kind of b", x.node(4, 1, 0), 5);
         Check.due("local of b", x.node(4, 1, 11), 1);

@@ -19,7 +19,7 @@ final class ValuesTest {
     }
 
     private static void starting() {
-        GraftTrees x = new GraftTrees(1);
+        Trees x = new Trees(1);
         Check.due("start without a text", x.start(1, 2), false);
         Check.due("state", x.state(), 0);
         Check.due("run", x.run(5), 0);
@@ -50,7 +50,7 @@ final class ValuesTest {
     }
 
     private static void stepping() {
-        GraftTrees x = Check.loaded(100, "function main(a,b){i=0;while(i<2){i=i+1;}f(i);return i;}function f(x){x;}");
+        Trees x = Check.loaded(100, "function main(a,b){i=0;while(i<2){i=i+1;}f(i);return i;}function f(x){x;}");
         x.start(1, 2);
         Check.due("run 0", x.run(0), 0);
         Check.due("run -1", x.run(-1), 0);
@@ -154,7 +154,7 @@ final class ValuesTest {
         Check.says("return main;", "main");
         Check.says("return nobody;", "nobody");
         Check.says("return new();", "{}");
-        GraftTrees x = Check.ran("function main(){s=\"0123456789012345678901234567890123456789\";s=s+s+s+s+s;"
+        Trees x = Check.ran("function main(){s=\"0123456789012345678901234567890123456789\";s=s+s+s+s+s;"
                 + "i=0;while(i<10){print(s);i=i+1;}print(\"x\");}");
         Check.due("letters of the out", x.total(4), 10 * 201 + 2);
         Check.due("the last that is kept", x.out(1999), (int) "0123456789012345678901234567890123456789".charAt(190 % 40));
@@ -216,7 +216,7 @@ final class ValuesTest {
         Check.says("null(ghost());", "E3@4");
         // 59 calls may be open, main's is the first.
         String deep = "function f(n){if(n>1){f(n-1);}}function main(){f(58);return 1;}";
-        GraftTrees x = Check.ran(deep);
+        Trees x = Check.ran(deep);
         Check.due("58 within main", Check.outcome(x), "1");
         Check.due("the most", x.total(2), 59);
         x = Check.ran(deep.replace("58", "59"));
@@ -242,7 +242,7 @@ final class ValuesTest {
         Check.says("o=new();i=0;while(i<12){o[\"k\"+i]=i;i=i+1;}o.k3=5;return o.k3+o.k11;", "16");
         Check.says("o=new();i=0;while(i<12){o[\"k\"+i]=i;i=i+1;}o.z=1;", "E9@21");
         Check.says("i=0;while(i<400){new();i=i+1;}return i;", "400");
-        GraftTrees x = Check.ran("function main(){while(true){new();}}");
+        Trees x = Check.ran("function main(){while(true){new();}}");
         Check.due("401 objects", Check.outcome(x), "E9@2");
         Check.due("objects", x.total(3), 400);
         Check.due("calls, also the last one", x.total(14), 402);
@@ -262,7 +262,7 @@ final class ValuesTest {
     }
 
     private static void ownFunctions() {
-        GraftTrees x = Check.ran("function main(){print(1);print();print(\"a\",2);print(null);print(true);print(print);"
+        Trees x = Check.ran("function main(){print(1);print();print(\"a\",2);print(null);print(true);print(print);"
                 + "print(new());return print(0-3);}");
         Check.due("out", Check.out(x), "1\nnull\na\nnull\ntrue\nprint\n{}\n-3\n");
         Check.due("letters", x.total(4), 31);
@@ -286,7 +286,7 @@ final class ValuesTest {
                 "function main(){define(\"function main(){return 2;}\");return 1+main();}")), "3");
         Check.due("print may be defined too", Check.outcome(Check.ran("function print(x){return x*2;}"
                 + "function main(){return print(4);}")), "8");
-        GraftTrees x = Check.ran("function main(){i=0;while(true){define(\"function f\"+i+\"(){}\");i=i+1;}}");
+        Trees x = Check.ran("function main(){i=0;while(true){define(\"function f\"+i+\"(){}\");i=i+1;}}");
         Check.due("61 roots", Check.outcome(x), "E9@4");
         Check.due("roots", x.total(5), 60);
         x = Check.ran("function main(){i=0;while(i<54){define(\"function f\"+i+\"(){}\");i=i+1;}"
@@ -297,7 +297,7 @@ final class ValuesTest {
     }
 
     private static void errorPlaces() {
-        GraftTrees x = Check.ran("function main(){f(1);}function f(x){return x/0;}");
+        Trees x = Check.ran("function main(){f(1);}function f(x){return x/0;}");
         Check.due("number", x.error(0), 2);
         Check.due("root", x.error(1), 5);
         Check.due("node", x.error(2), 2);
