@@ -97,6 +97,35 @@ final class Check {
         }
     }
 
+    /** A TEXT with its FAULT's number and place; number 0: it has none. */
+    static void faulty(String text, int number, int place) {
+        Trees x = new Trees(1);
+        int bytes = feed(x, text);
+        int roots = x.load(bytes);
+        String shown = text.length() > 300 ? ".." + text.substring(text.length() - 80) : text;
+        due("load of " + shown, roots == GraftTrees.NONE, number != 0);
+        due("fault of " + shown, x.fault(0), number);
+        due("place of " + shown, x.fault(1), number == 0 ? GraftTrees.NONE : place);
+    }
+
+    static void good(String text) {
+        faulty(text, 0, GraftTrees.NONE);
+    }
+
+    /** A FAULT in main's body, its place counted from there. */
+    static void faultyBody(String body, int number, int place) {
+        String head = "function main(a,b){";
+        faulty(head + body + "}", number, head.length() + place);
+    }
+
+    static void goodBody(String body) {
+        faultyBody(body, 0, GraftTrees.NONE);
+    }
+
+    static String times(String part, int times) {
+        return part.repeat(times);
+    }
+
     /** main's body, worked out to its end. */
     static void says(String body, String want) {
         due(body, outcome(ran("function main(a,b){" + body + "}")), want);

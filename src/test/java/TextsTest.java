@@ -1,17 +1,11 @@
-/** The tape, TEXTS and their FAULTS, how NODES are numbered: promises 2, 3, 4 and 13. */
+/** The tape, loading, how TEXTS are read and NODES numbered: promises 2, 3, 4 and 13. */
 final class TextsTest {
     private static final int NONE = GraftTrees.NONE;
 
     public static void main(String[] args) {
         tape();
         loading();
-        tokenFaults();
         grammarFaults();
-        depthFaults();
-        limitFaults();
-        nameFaults();
-        orderOfFaults();
-        targets();
         numbering();
         locals();
         Check.end("TextsTest");
@@ -109,182 +103,53 @@ final class TextsTest {
         Check.due("its node", x.node(5, 0, 0), NONE);
     }
 
-    private static void faulty(String text, int number, int place) {
-        Trees x = new Trees(1);
-        int bytes = Check.feed(x, text);
-        int roots = x.load(bytes);
-        Check.due("load of " + text, roots == NONE, number != 0);
-        Check.due("number of " + text, x.fault(0), number);
-        Check.due("place of " + text, x.fault(1), place);
-    }
-
-    /** A FAULT in main's body, its place counted from there. */
-    private static void faultyBody(String body, int number, int place) {
-        String head = "function main(a,b){";
-        faulty(head + body + "}", number, number == 0 ? NONE : head.length() + place);
-    }
-
-    private static String times(String part, int times) {
-        StringBuilder all = new StringBuilder();
-        for (int i = 0; i < times; i++) {
-            all.append(part);
-        }
-        return all.toString();
-    }
-
-    private static void tokenFaults() {
-        faultyBody("a;$", 1, 2);
-        faultyBody("a;\t", 1, 2);
-        faultyBody("a & b;", 1, 3);
-        faultyBody("a | b;", 1, 3);
-        faulty("function f(){a&", 1, 15);
-        faulty("function f(){\"ab", 1, 16);
-        faultyBody("\"a\nb\";", 1, 2);
-        faultyBody("\"" + times("s", 40) + "\";", 0, NONE);
-        faultyBody("\"" + times("s", 41) + "\";", 1, 41);
-        faultyBody("\"\u007f\";", 1, 1);
-        faultyBody("\" ~\";", 0, NONE);
-        faultyBody("abcdefghij12;", 0, NONE);
-        faultyBody("azAZ09;A;Z;z9;", 0, NONE);
-        faultyBody("a@;", 1, 1);
-        faultyBody("a`;", 1, 1);
-        faultyBody("a:;", 1, 1);
-        faultyBody("a;abcdefghij123;", 1, 2);
-        faultyBody(times("9", 36) + ";", 0, NONE);
-        faultyBody(times("0", 37) + ";", 1, 0);
-        faultyBody("12a;", 2, 2);
-        faultyBody("a//&$\"\n;b;//x", 2, 14);
-        faultyBody("a//&$\"\n;b;//x\n", 0, NONE);
-        faultyBody("_a;", 1, 0);
-        faultyBody("a%2;", 1, 1);
-        faultyBody("\u0080;", 1, 0);
-    }
-
     private static void grammarFaults() {
-        faulty("", 2, 0);
-        faulty("  ", 2, 2);
-        faulty("x", 2, 0);
-        faulty("function", 2, 8);
-        faulty("function if(){}", 2, 9);
-        faulty("function f({}", 2, 11);
-        faulty("function f(a,){}", 2, 13);
-        faulty("function f(a b){}", 2, 13);
-        faulty("function f(){", 2, 13);
-        faulty("function f(){}//", 0, NONE);
-        faulty("function f(){} f", 2, 15);
-        faulty("function f(){}}", 2, 14);
-        faultyBody("if(a){}else{}", 0, NONE);
-        faultyBody("if(a){}else if(b){}", 2, 12);
-        faultyBody("if a {}", 2, 3);
-        faultyBody("if(a) b;", 2, 6);
-        faultyBody("while(){}", 2, 6);
-        faultyBody("else{}", 2, 0);
-        faultyBody("return;", 0, NONE);
-        faultyBody("return", 2, 6);
-        faultyBody("return a b;", 2, 9);
-        faultyBody("break", 5, 0);
-        faultyBody("while(a){break}", 2, 14);
-        faultyBody("a", 2, 1);
-        faultyBody(";", 2, 0);
-        faultyBody("a==b==c;", 2, 4);
-        faultyBody("a<b<c;", 2, 3);
-        faultyBody("a<b==c<b;", 0, NONE);
-        faultyBody("a==b!=c;", 2, 4);
-        faultyBody("(a==b)==c;", 0, NONE);
-        faultyBody("a+b-c*a/b&&c||a&&b;", 0, NONE);
-        faultyBody("-1;", 2, 0);
-        faultyBody("a+;", 2, 2);
-        faultyBody("a.;", 2, 2);
-        faultyBody("a.if;", 2, 2);
-        faultyBody("a.1;", 2, 2);
-        faultyBody("a[];", 2, 2);
-        faultyBody("a[1;", 2, 3);
-        faultyBody("f(,a);", 2, 2);
-        faultyBody("f(a,);", 2, 4);
-        faultyBody("f(a;", 2, 3);
-        faultyBody("(a;", 2, 2);
-        faultyBody("();", 2, 1);
-        faultyBody("!;", 2, 1);
-        faultyBody("!!a;", 0, NONE);
-        faultyBody("a / / b;", 2, 4);
-    }
-
-    private static void depthFaults() {
-        // The BLOCK's { is one of those that are open.
-        faultyBody(times("(", 19) + "a" + times(")", 19) + ";", 0, NONE);
-        faultyBody(times("(", 20) + "a", 3, 19);
-        faultyBody(times("!", 20) + "a", 3, 19);
-        faultyBody(times("!", 19) + "a;" + times("!", 19) + "a;", 0, NONE);
-        faultyBody(times("a[", 20), 3, 39);
-        faultyBody(times("f(", 20), 3, 39);
-        faultyBody(times("a=", 19) + "1;", 0, NONE);
-        faultyBody(times("a=", 20) + "1;", 3, 39);
-        faultyBody(times("a=1;", 40), 0, NONE);
-        faultyBody(times("if(a){", 19) + times("}", 19), 0, NONE);
-        faultyBody(times("if(a){", 20), 3, 116);
-        faultyBody(times("while(a){", 18) + "if(!a){", 3, 165);
-        faulty("function f(){{", 2, 13);
-    }
-
-    private static void limitFaults() {
-        StringBuilder fifty = new StringBuilder();
-        for (int i = 0; i < 50; i++) {
-            fifty.append("function f").append(i).append("(){}");
-        }
-        faulty(fifty.toString(), 0, NONE);
-        faulty(fifty + "function g(){}", 4, fifty.length() + 9);
-        faulty(fifty + "function f1(){}", 4, fifty.length() + 9);
-        faulty(fifty + "function 1(){}", 2, fifty.length() + 9);
-        faulty("function f(a,b,c,d,e,g){}", 0, NONE);
-        faulty("function f(a,b,c,d,e,g,h){}", 4, 23);
-        faulty("function f(a,b,c,d,e,g,a){}", 4, 23);
-        faulty("function f(a,b,c,d,e,g,1){}", 2, 23);
-        faultyBody("c=d=e=f=g=h=i=j=k=l=1;a=1;l=2;", 0, NONE);
-        faultyBody("c=d=e=f=g=h=i=j=k=l=1;m + 1;m =1;", 4, 28);
-        // 2 of the head, then one + for each but the first.
-        faultyBody("a" + times("+a", 148) + ";a;", 0, NONE);
-        faultyBody("a" + times("+a", 148) + ";a;a;", 4, 300);
-        faultyBody("a" + times("+a", 148) + "+a;", 4, 298);
-        faultyBody("a" + times("+a", 148) + ";a;break;", 4, 300);
-        faultyBody("a" + times("+a", 148) + ";break;", 5, 298);
-        faultyBody("a" + times(".b", 297) + ";", 0, NONE);
-        faultyBody("a" + times(".b", 297) + "=1;", 4, 596);
-        faultyBody("f(1,2,3,4,5,6,7,8,9,10,11,12);", 0, NONE);
-        faultyBody("f(1,2,3,4,5,6,7,8,9,10,11,12, a);", 4, 30);
-        faultyBody("f(1,2,3,4,5,6,7,8,9,10,11,12,);", 2, 29);
-        faultyBody("f(1,2,3,4,5,6,7,8,9,10,11,12,!a);", 4, 29);
-        faultyBody(times("(", 18) + "f(1,2,3,4,5,6,7,8,9,10,11,12,(a));", 3, 47);
-    }
-
-    private static void nameFaults() {
-        faulty("function f(){}function f(){}", 6, 23);
-        faulty("function f(a,b,a){}", 6, 15);
-        faulty("function f(f){}function g(f){}", 0, NONE);
-        faultyBody("continue;", 5, 0);
-        faultyBody("while(a){}break;", 5, 10);
-        faultyBody("while(a){if(b){break;}else{continue;}}", 0, NONE);
-        faulty("function f(){while(true){}}function g(){break;}", 5, 40);
-    }
-
-    private static void orderOfFaults() {
-        // What is ahead is read as the TOKEN before it is taken, and no sooner.
-        faulty("x $", 2, 0);
-        faulty("function f(){a b $}", 2, 15);
-        faulty("function f(){a + $}", 1, 17);
-        faulty("function f(){)\"", 2, 13);
-    }
-
-    private static void targets() {
-        faultyBody("a.b=1;a[1]=2;(a).b=3;f(1).c=4;\"s\".b=5;a.b.c=a[1][2]=6;", 0, NONE);
-        faultyBody("(a)=1;", 2, 3);
-        faultyBody("(a.b)=1;", 2, 5);
-        faultyBody("!a.b=1;", 2, 4);
-        faultyBody("a+b=1;", 2, 3);
-        faultyBody("f(1)=1;", 2, 4);
-        faultyBody("1=1;", 2, 1);
-        faultyBody("a=b+c=1;", 2, 5);
-        faultyBody("a=b==c=1;", 2, 6);
-        faultyBody("f(a=1,b.c=2);if(a=true){}return b=1;", 0, NONE);
+        Check.faulty("", 2, 0);
+        Check.faulty("  ", 2, 2);
+        Check.faulty("x", 2, 0);
+        Check.faulty("function", 2, 8);
+        Check.faulty("function if(){}", 2, 9);
+        Check.faulty("function f({}", 2, 11);
+        Check.faulty("function f(a,){}", 2, 13);
+        Check.faulty("function f(a b){}", 2, 13);
+        Check.faulty("function f(){", 2, 13);
+        Check.good("function f(){}//");
+        Check.faulty("function f(){} f", 2, 15);
+        Check.faulty("function f(){}}", 2, 14);
+        Check.goodBody("if(a){}else{}");
+        Check.faultyBody("if(a){}else if(b){}", 2, 12);
+        Check.faultyBody("if a {}", 2, 3);
+        Check.faultyBody("if(a) b;", 2, 6);
+        Check.faultyBody("while(){}", 2, 6);
+        Check.faultyBody("else{}", 2, 0);
+        Check.goodBody("return;");
+        Check.faultyBody("return", 2, 6);
+        Check.faultyBody("return a b;", 2, 9);
+        Check.faultyBody("break", 5, 0);
+        Check.faultyBody("while(a){break}", 2, 14);
+        Check.faultyBody("a", 2, 1);
+        Check.faultyBody(";", 2, 0);
+        Check.faultyBody("a==b==c;", 2, 4);
+        Check.faultyBody("a<b<c;", 2, 3);
+        Check.goodBody("a<b==c<b;");
+        Check.faultyBody("a==b!=c;", 2, 4);
+        Check.goodBody("(a==b)==c;");
+        Check.goodBody("a+b-c*a/b&&c||a&&b;");
+        Check.faultyBody("-1;", 2, 0);
+        Check.faultyBody("a+;", 2, 2);
+        Check.faultyBody("a.;", 2, 2);
+        Check.faultyBody("a.if;", 2, 2);
+        Check.faultyBody("a.1;", 2, 2);
+        Check.faultyBody("a[];", 2, 2);
+        Check.faultyBody("a[1;", 2, 3);
+        Check.faultyBody("f(,a);", 2, 2);
+        Check.faultyBody("f(a,);", 2, 4);
+        Check.faultyBody("f(a;", 2, 3);
+        Check.faultyBody("(a;", 2, 2);
+        Check.faultyBody("();", 2, 1);
+        Check.faultyBody("!;", 2, 1);
+        Check.goodBody("!!a;");
+        Check.faultyBody("a / / b;", 2, 4);
     }
 
     /** The KINDS of a ROOT's NODES and the places of their TOKENS. */
