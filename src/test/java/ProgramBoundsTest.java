@@ -14,6 +14,8 @@ final class ProgramBoundsTest {
         operandsOfEachKind();
         divisors();
         onlyIfItMatters();
+        truthsAreWhatTheyAre();
+        whatEqualsGives();
         unsetLocalsAndEnds();
         getsInOrder();
         putsInOrder();
@@ -247,6 +249,33 @@ final class ProgramBoundsTest {
         Check.says("return (true&&false)+\"\"+(true&&true)+(false||true)+(false||false);", "falsetruetruefalse");
     }
 
+    /** "== of all: .. truths by what they are": wherever they come from. */
+    private static void truthsAreWhatTheyAre() {
+        String[] falses = {"false", "!true", "1>2", "2<=1", "1>=2", "2<1", "1==2", "1!=1", "\"a\"==\"b\"", "true&&false",
+            "false||false", "!!false", "9223372036854775808<1"};
+        String[] trues = {"true", "!false", "2>1", "1<=1", "2>=1", "1<2", "1==1", "1!=2", "\"a\"==\"a\"", "true&&true",
+            "false||true", "!!true", "9223372036854775808>1"};
+        for (int i = 0; i < falses.length; i++) {
+            Check.says("return ((" + falses[i] + ")==false)+\"\"+((" + falses[i] + ")!=true)+(" + falses[i] + ");",
+                    "truetruefalse");
+            Check.says("return ((" + trues[i] + ")==true)+\"\"+((" + trues[i] + ")!=false)+(" + trues[i] + ");",
+                    "truetruetrue");
+            Check.says("if(" + falses[i] + "){return 1;}if(" + trues[i] + "){return 2;}", "2");
+        }
+    }
+
+    /** "What = sets is what the WRITE or PUT gives." */
+    private static void whatEqualsGives() {
+        String[] values = {"5", "100000000000000000000", "\"s\"", "true", "false", "null", "main", "new()"};
+        for (String value : values) {
+            String shown = value.equals("new()") ? "{}" : value.replace("\"", "");
+            Check.says("return x=" + value + ";", shown);
+            Check.says("o=new();return o.p=" + value + ";", shown);
+            Check.says("o=new();return o[\"p\"]=" + value + ";", shown);
+            Check.says("o=new();x=o.q=y=o.p=" + value + ";return o.p==x&&o.q==y&&x==y;", "true");
+        }
+    }
+
     /** "A LOCAL that was not set is null."; "RETURN without E, and a BLOCK's end: null." */
     private static void unsetLocalsAndEnds() {
         Check.says("return x;x=1;", "null");
@@ -264,6 +293,8 @@ final class ProgramBoundsTest {
         Check.says("o=new();o[2];", "E1@5");
         Check.says("o=new();o[\"p\"];", "E5@5");
         Check.says("o=new();o.p;", "E5@5");
+        Check.says("o=new();o[\"\"];", "E5@5");
+        Check.says("o=new();o[\"null\"];", "E5@5");
         Check.says("o=new();o.p=1;o.P;", "E5@8");
         Check.says("o=new();o.pp=1;o.p;", "E5@8");
         Check.says("o=new();o.p=1;o.pp;", "E5@8");

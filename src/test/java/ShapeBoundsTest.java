@@ -90,6 +90,8 @@ final class ShapeBoundsTest {
             Check.due("shapes", x.total(6), 200 - (3 - b) + 1);
             Check.due("no heir", x.shape(3, 2), NONE);
             Check.due("no moves", x.total(13), 0);
+            Check.due("entries of the put", x.node(4, x.error(2), 4), 0);
+            Check.due("changes of the put", x.node(4, x.error(2), 3), 0);
         }
     }
 

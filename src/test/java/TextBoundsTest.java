@@ -271,6 +271,11 @@ final class TextBoundsTest {
             begun.append(' ').append(tokens[i]);
         }
         Check.faulty(begun + " ;", 2, begun.length() + 1);
+        Check.faulty("function (){}", 2, 9);
+        Check.faulty("function 1(){}", 2, 9);
+        Check.faulty("function f{}", 2, 10);
+        Check.faulty("function f(a;){}", 2, 12);
+        Check.faulty("function f()1;", 2, 12);
         Check.faulty(begun + " function", 2, begun.length() + 9);
     }
 

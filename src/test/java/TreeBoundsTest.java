@@ -21,6 +21,7 @@ final class TreeBoundsTest {
         noChangeByError();
         changeAheadOfWhatComes();
         twoEntriesOfCall();
+        entriesSideBySide();
         threeEntriesOfGet();
         threeEntriesOfPut();
         openNeverChanges();
@@ -73,6 +74,7 @@ final class TreeBoundsTest {
         state("a+b;", 2, 1, LEAST, MOST);
         state("a+b;", 2, 2, LEAST, LEAST);
         state("a+b;", 2, 2, MOST, MOST);
+        state("a+b;", 2, 2, 0x5555555555555555L, 0x5555555555555555L);
         state("a-b;", 2, 1, LEAST, 0);
         state("a-b;", 2, 2, LEAST, 1);
         state("a-b;", 2, 1, LEAST + 1, 1);
@@ -82,6 +84,7 @@ final class TreeBoundsTest {
         state("a-b;", 2, 1, -1, LEAST);
         state("a-b;", 2, 1, LEAST, LEAST);
         state("a-b;", 2, 1, 0, MOST);
+        state("a-b;", 2, 2, 0xAAAAAAAAAAAAAAAAL, 0x5555555555555555L);
         // What is LONG and what is BIG are the same numbers to a program.
         Check.due("least", Check.outcome(ran("return a+b;", LEAST + 1, -1)), "" + LEAST);
         Check.due("below it", Check.outcome(ran("return a+b;", LEAST, -1)), "-9223372036854775809");
@@ -276,6 +279,16 @@ final class TreeBoundsTest {
             Check.due("entries of " + bodies[i], x.node(4, none[i], 4), 0);
             Check.due("changes of " + bodies[i], x.node(4, none[i], 3), 0);
         }
+        // A STRING that is too great; what there is no place for to be MADE.
+        Trees great = ran("s=\"" + Check.times("s", 40) + "\";s=s+s+s+s+s;s+\"x\";", 0, 0);
+        Check.due("error", great.error(0), 8);
+        Check.due("state of the string's +", great.node(4, great.error(2), 2), 0);
+        for (String last : new String[] {"\"\"+\"\"", "x+1", "x-1", "x*1", "x/1"}) {
+            Trees full = ran("x=9223372036854775808;i=0;while(i<1000){x" + Check.times("+0", 25) + ";i=i+1;}" + last + ";", 0, 0);
+            Check.due("error of " + last, full.error(0), 9);
+            Check.due("state of " + last, full.node(4, full.error(2), 2), 0);
+            Check.due("changes of " + last, full.node(4, full.error(2), 3), 0);
+        }
         // A 13th PROPERTY; a call that is DEEP.
         Trees x = ran("o=new();i=0;while(i<12){o[\"k\"+i]=i;i=i+1;}o.z=1;", 0, 0);
         Check.due("entries of the 13th", x.node(4, 21, 4), 0);
@@ -333,6 +346,28 @@ final class TreeBoundsTest {
         entries(x, 16, 0, 2, 2, 5);
         runs(x, 2, 0);
         entries(x, 16, 1, 3);
+    }
+
+    /** NODES side by side have each their own ENTRIES. */
+    private static void entriesSideBySide() {
+        Trees x = Check.loaded(100, "function main(a,b){o=new();p=new();if(a>0){o.x=1;}if(b>0){p.x=1;}if(a>1){o.y=1;}"
+                + "if(b>1){p.y=1;}p.q=1;o.p=p;o.p.q;}");
+        // 2 o, 5 p, 8 IF, 15 IF, 22 IF, 29 IF, 36 PUT, 39 PUT, 42 GET q, 43 GET p
+        for (int a = 0; a < 3; a++) {
+            for (int b = 0; b < 3; b++) {
+                runs(x, a, b);
+            }
+        }
+        Check.due("entries of .q", x.node(4, 42, 4), 3);
+        Check.due("entries of .p", x.node(4, 43, 4), 3);
+        for (int i = 0; i < 3; i++) {
+            Check.due("q of entry " + i, x.shape(x.node(4, 42, 5 + i), 4), 'q');
+            Check.due("p of entry " + i, x.shape(x.node(4, 43, 5 + i), 4), 'p');
+            Check.due("properties of entry " + i, x.shape(x.node(4, 42, 5 + i), 3), i + 1);
+            Check.due("properties of entry " + i, x.shape(x.node(4, 43, 5 + i), 3), i + 1);
+        }
+        Check.due("changes of .q", x.node(4, 42, 3), 3);
+        Check.due("changes of .p", x.node(4, 43, 3), 3);
     }
 
     private static final String BY_SHAPE = "function main(a,b){o=new();if(a>0){o.x=1;}if(a>1){o.y=1;}if(a>2){o.z=1;}"
