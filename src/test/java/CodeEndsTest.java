@@ -290,5 +290,17 @@ final class CodeEndsTest {
         Check.due("entered", x.code(0, 5), 1);
         runs(x, 1, 0);
         Check.due("exits", x.code(0, 6), 1);
+        // f was a UNIT of the earlier CODE 0; of this one it is none.
+        x = Check.loaded(1, "function main(a,b){f(a);}function f(n){n+1;}");
+        runs(x, 1, 0);
+        x.compile();
+        x.load(Check.feed(x, "function main(a,b){h=f;if(b==1){h=g;}h(a);}function f(n){n+1;}function g(n){}"));
+        runs(x, 1, 0);
+        runs(x, 1, 1);
+        Check.due("main", x.compile(), 4);
+        Check.due("units", x.code(0, 2), 1);
+        runs(x, Long.MAX_VALUE, 0);
+        Check.due("f has changed", x.node(5, 1, 2), 2);
+        Check.due("main's code stays", x.code(0, 1), 1);
     }
 }

@@ -41,6 +41,8 @@ final class GuardsTest {
             guards("function main(){(1+2*3)" + sign + "(4-3/1);}" + F, 0, 0, 0);
             guards("function main(){(1+2*3)" + sign + "f();}" + F, 1 + 1, 0, 0);
             guards("function main(){f()" + sign + "(1+2*3);}" + F, 1 + 1, 0, 0);
+            guards("function main(){1" + sign + "(f()+1);}" + F, 1 + 1, 0, 0);
+            guards("function main(){(f()+1)" + sign + "(2+f());}" + F, 2 + 2, 0, 0);
             guards("function main(){8;return 1;1" + sign + "2;}" + F, 1, 0, 0);
         }
     }

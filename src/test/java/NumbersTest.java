@@ -25,6 +25,8 @@ final class NumbersTest {
                 pair(new BigInteger(a).negate(), new BigInteger(b).negate(), false);
             }
         }
+        // What is left of a division is one below what is taken, limb by limb.
+        pair(new BigInteger("2000000004000000000"), new BigInteger("1000000005"), true);
         // Small, and BIG all the same.
         for (int a = -2; a < 3; a++) {
             for (int b = -2; b < 3; b++) {

@@ -153,10 +153,11 @@ final class ReloadTest {
 
     /** 55 TEXTS with 43 NAMES of their own each. */
     private static void manyNames() {
-        Trees x = Check.ran("function main(a,b){i=10;while(i<65){s=i+\"+\";define(\"function g\"+i+\"(){return z\"+i+\";\"+("
+        Trees x = Check.ran("function main(a,b){i=10;while(i<65){s=i+\"+\";define(\"function g\"+i+\"(){return y\"+i+\";\"+("
                 + joined(0, LETTERS.length()) + ")+\"a;}\");i=i+1;}"
-                + "return g10()==z10&&g64()==z64&&g63()!=z64&&kind(g64())==\"function\";}");
-        Check.due("outcome", Check.outcome(x), "true");
+                + "print(g10());print(g63());return g64();}");
+        Check.due("out", Check.out(x), "y10\ny63\n");
+        Check.due("outcome", Check.outcome(x), "y64");
         Check.due("roots", x.total(5), 60);
         Check.due("nodes of the last", x.root(59, 0), 2 + 2 * LETTERS.length() + 1);
     }
