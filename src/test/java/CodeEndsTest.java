@@ -13,6 +13,8 @@ final class CodeEndsTest {
         changesOfUnits();
         ownFrameAlone();
         allOfOneFrame();
+        callThatChanges();
+        paramOfInlined();
         fallAtWhile();
         fallsAreGoneByLoad();
         codesOfEarlierTexts();
@@ -219,6 +221,56 @@ final class CodeEndsTest {
         x.run(9);
         Check.due("one exit in all", x.total(11), 1);
         Check.due("inlined ones", x.total(15), 2);
+    }
+
+    private static final String PICK = "function pick(b){if(b==1){return %;}return 5;}function pick2(b){return 6;}";
+
+    /** "(All this ahead of the call.)": a CALL that CHANGES leaves its FRAME, and what it calls is not INLINED. */
+    private static void callThatChanges() {
+        // The CALL of p has two ENTRIES, so that what pick meets is no matter to main's CODE.
+        Trees x = Check.loaded(1, "function main(a,b){p=pick;if(a==1){p=pick2;}h=p(b);h();2;}"
+                + PICK.replace("%", "g").replace("5", "f").replace("6", "f") + "function f(){3;}function g(){4;}");
+        runs(x, 0, 0);
+        runs(x, 1, 0);
+        Check.due("main", x.compile(), 4);
+        Check.due("main, f", x.code(0, 2), 2);
+        x.start(0, 1);
+        x.run(5);
+        Check.due("main in its code", x.frame(0, 1), 0);
+        Check.due("no exits yet", x.total(11), 0);
+        x.run(1);
+        Check.due("g", x.frame(0, 0), 8);
+        Check.due("not inlined", x.frame(0, 3), 0);
+        Check.due("main has left", x.frame(1, 1), NONE);
+        Check.due("an exit", x.code(0, 6), 1);
+        Check.due("heat of g", x.root(8, 2), 1);
+        Check.due("inlined ones", x.total(15), 0);
+    }
+
+    /** "the HEAT stays (and no PARAM was looked at yet)"; "(Also by a PARAM.)" */
+    private static void paramOfInlined() {
+        Trees x = Check.loaded(1, "function main(a,b){p=pick;if(a==1){p=pick2;}f(p(b));2;}" + PICK.replace("%", "true")
+                + "function f(v){3;}");
+        runs(x, 0, 0);
+        runs(x, 1, 0);
+        Check.due("main", x.compile(), 4);
+        Check.due("main, f", x.code(0, 2), 2);
+        x.start(0, 1);
+        x.run(4);
+        Check.due("main in its code", x.frame(1, 1), 0);
+        Check.due("no exits yet", x.total(11), 0);
+        x.run(1);
+        Check.due("f", x.frame(0, 0), 7);
+        Check.due("it was inlined", x.total(15), 1);
+        Check.due("and is so no more", x.frame(0, 3), 0);
+        Check.due("in no code", x.frame(0, 1), NONE);
+        Check.due("main neither", x.frame(1, 1), NONE);
+        Check.due("an exit", x.code(0, 6), 1);
+        Check.due("heat of f stays", x.root(7, 2), 2);
+        Check.due("sort", x.root(7, 10), 3);
+        x.run(9);
+        Check.due("end", x.state(), 2);
+        Check.due("no falls", x.total(12), 0);
     }
 
     /** "or a WHILE's E is come to, in an ACTIVATION in a CODE that is not VALID any more: .. a FALL": then HEAT, QUEUE. */

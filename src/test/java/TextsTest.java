@@ -7,6 +7,7 @@ final class TextsTest {
         loading();
         grammarFaults();
         numbering();
+        numberingOfDefine();
         locals();
         Check.end("TextsTest");
     }
@@ -177,6 +178,18 @@ final class TextsTest {
                 "12@14 7@13 1@15 13@18 7@17 1@20 14@23 7@22 1@24 15@27 7@26 1@29 16@32 7@31 1@34 17@37 7@36 1@39"
                         + " 11@42 7@41 1@43 3@45");
         nodes("function g(x){x;}function f(y){y;}", 5, "0@28 5@31");
+    }
+
+    /** The places of what define brings are those of its own TEXT. */
+    private static void numberingOfDefine() {
+        Trees x = Check.ran("function main(){define(\" function g(x){1;}function h(){2+3;}\");}");
+        Check.due("roots", x.total(5), 7);
+        Check.due("g is the first", x.root(5, 30), 'g');
+        Check.due("h is the second", x.root(6, 30), 'h');
+        Check.due("the param of g", x.node(5, 0, 1), 12);
+        Check.due("the number of g", x.node(5, 1, 1), 15);
+        Check.due("the + of h", x.node(6, 0, 1), 32);
+        Check.due("nodes of h", x.root(6, 0), 3);
     }
 
     private static void locals() {
