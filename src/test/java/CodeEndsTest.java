@@ -15,6 +15,7 @@ final class CodeEndsTest {
         allOfOneFrame();
         callThatChanges();
         paramOfInlined();
+        exitOfEndedCode();
         fallAtWhile();
         fallsAreGoneByLoad();
         codesOfEarlierTexts();
@@ -271,6 +272,25 @@ final class CodeEndsTest {
         x.run(9);
         Check.due("end", x.state(), 2);
         Check.due("no falls", x.total(12), 0);
+    }
+
+    /** "A NODE that CHANGES in an ACTIVATION in a CODE: .. an EXIT": also when that CODE has ended and none fell yet. */
+    private static void exitOfEndedCode() {
+        Trees x = Check.loaded(1, "function main(a,b){x=9223372036854775808;o=new();o.p0=1;(o[\"p\"+b]=x)==(a+1);2;}");
+        runs(x, 1, 1);
+        Check.due("main", x.compile(), 4);
+        x.start(Long.MAX_VALUE, 0);
+        x.run(3);
+        Check.due("valid", x.code(0, 1), 1);
+        // The PUT ends the CODE, then the + becomes BIG in the same STATEMENT.
+        x.run(1);
+        Check.due("valid no more", x.code(0, 1), 0);
+        Check.due("an exit", x.code(0, 6), 1);
+        Check.due("main has left", x.frame(0, 1), NONE);
+        x.run(1);
+        Check.due("end", x.state(), 2);
+        Check.due("no falls", x.total(12), 0);
+        Check.due("exits", x.total(11), 1);
     }
 
     /** "or a WHILE's E is come to, in an ACTIVATION in a CODE that is not VALID any more: .. a FALL": then HEAT, QUEUE. */

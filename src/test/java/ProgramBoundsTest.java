@@ -397,6 +397,9 @@ final class ProgramBoundsTest {
         Check.due("the 61st", Check.outcome(x), "E9@8");
         Check.due("roots", x.total(5), 60);
         Check.due("f0 is what it was", x.root(5, 6), 1);
+        // A TEXT with a FAULT would bring none.
+        x = Check.ran("function main(){i=0;while(i<55){define(\"function f\"+i+\"(){}\");i=i+1;}define(\"function g(){}$\");}");
+        Check.due("a fault when all are there", Check.outcome(x), "E11@17");
         x = Check.loaded(100, text);
         x.start(53, 2);
         x.run(20001);
