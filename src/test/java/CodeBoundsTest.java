@@ -113,7 +113,8 @@ final class CodeBoundsTest {
 
     /** "or is not the newest one of its FUNCTION"; "takes ROOTS .., for good, until one is the newest". */
     private static void queueOfTheNewest() {
-        Trees x = Check.loaded(1, "function main(a,b){f();if(a==1){define(\"function f(){}\");}g();}function f(){}function g(){}");
+        Trees x = Check.loaded(1, "function main(a,b){f();if(a==1){define(\"function f(){}\");}g();}"
+                + "function f(){}function g(){}");
         runs(x, 1, 0);
         Check.due("main, f and g", x.total(8), 3);
         Check.due("f is not the newest", x.root(5, 6), 0);
@@ -282,7 +283,8 @@ final class CodeBoundsTest {
 
     /** "that is not the ROOT of this UNIT or of one that this one lies in". */
     private static void notWithinItself() {
-        Trees x = Check.loaded(1, "function main(a,b){f(a);}function f(n){if(n>0){g(n);}}function g(n){f(n-1);h();}function h(){}");
+        Trees x = Check.loaded(1, "function main(a,b){f(a);}function f(n){if(n>0){g(n);}}function g(n){f(n-1);h();}"
+                + "function h(){}");
         runs(x, 2, 0);
         Check.due("main", x.compile(), 4);
         Check.due("main, f, g", x.code(0, 2), 3);

@@ -295,8 +295,8 @@ final class CodeEndsTest {
 
     /** "or a WHILE's E is come to, in an ACTIVATION in a CODE that is not VALID any more: .. a FALL": then HEAT, QUEUE. */
     private static void fallAtWhile() {
-        Trees x = Check.loaded(1, "function main(a,b){x=9223372036854775808;i=0;while(i<2){i=i+1;o=new();o.p0=1;o[\"p\"+b]=x;}"
-                + "return i;}");
+        Trees x = Check.loaded(1, "function main(a,b){x=9223372036854775808;i=0;"
+                + "while(i<2){i=i+1;o=new();o.p0=1;o[\"p\"+b]=x;}return i;}");
         runs(x, 0, 1);
         Check.due("main", x.compile(), 4);
         x.start(0, 0);

@@ -195,7 +195,8 @@ final class ProgramBoundsTest {
             Check.says("o=" + VALUES[i] + ";o.p=1;return o.p;", i == OBJECT ? "1" : "E4@4");
             Check.says("o=new();o[" + VALUES[i] + "]=1;return o.s;", i == STRING ? "1" : "E1@5");
             Check.says("o=new();o.s=1;return o[" + VALUES[i] + "];", i == STRING ? "1" : "E1@9");
-            Check.says("f=" + VALUES[i] + ";if(a==3){return f(9,9);}return a;", i == FUNCTION ? "9" : i == OBJECT ? "E6@10" : "E6@9");
+            Check.says("f=" + VALUES[i] + ";if(a==3){return f(9,9);}return a;",
+                    i == FUNCTION ? "9" : i == OBJECT ? "E6@10" : "E6@9");
         }
     }
 
@@ -398,7 +399,8 @@ final class ProgramBoundsTest {
         Check.due("roots", x.total(5), 60);
         Check.due("f0 is what it was", x.root(5, 6), 1);
         // A TEXT with a FAULT would bring none.
-        x = Check.ran("function main(){i=0;while(i<55){define(\"function f\"+i+\"(){}\");i=i+1;}define(\"function g(){}$\");}");
+        x = Check.ran("function main(){i=0;while(i<55){define(\"function f\"+i+\"(){}\");i=i+1;}"
+                + "define(\"function g(){}$\");}");
         Check.due("a fault when all are there", Check.outcome(x), "E11@17");
         x = Check.loaded(100, text);
         x.start(53, 2);

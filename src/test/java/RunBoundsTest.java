@@ -52,7 +52,8 @@ final class RunBoundsTest {
         Check.due("a put", Check.outcome(Check.ran("function main(){o=new();while(true){o.p=1;}}")), "E10@5");
         Check.due("an if", Check.outcome(Check.ran("function main(){1;while(true){if(false){}}}")), "E10@3");
         Check.due("a continue", Check.outcome(Check.ran("function main(){1;while(true){continue;}}")), "E10@3");
-        Check.due("a return", Check.outcome(Check.ran("function main(){8;while(true){f();}}function f(){2;return 1;}")), "E10@1");
+        Check.due("a return", Check.outcome(Check.ran("function main(){8;while(true){f();}}function f(){2;return 1;}")),
+                "E10@1");
         Trees x = Check.ran("function main(){while(true){f();}}function f(){1;2;return 1;}");
         Check.due("the root where it came", x.error(1), 4);
         x = Check.ran("function main(){1;while(true){f();}}function f(){1;2;return 1;}");

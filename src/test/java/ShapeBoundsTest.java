@@ -44,8 +44,8 @@ final class ShapeBoundsTest {
 
     /** "it comes when it is wanted and is not there": with 200 there may be used what is. */
     private static void fullButThere() {
-        String fill = "function main(a,b){p=new();p.a=null;p.b=1;o=new();o.a=1;o.b=1;i=0;while(i<195){n=new();n[\"k\"+i]=i;i=i+1;}"
-                + "q=new();%return o.a+o.b;}";
+        String fill = "function main(a,b){p=new();p.a=null;p.b=1;o=new();o.a=1;o.b=1;i=0;"
+                + "while(i<195){n=new();n[\"k\"+i]=i;i=i+1;}q=new();%return o.a+o.b;}";
         // SHAPES: 1 a of 3, 2 ab; 3 a of 1, 4 ab; then 195 more.
         Check.due("full", ran(fill.replace("%", ""), 0, 0).total(6), 200);
         fullBy(fill, "q.a=1;q.b=1;", "2");
@@ -66,7 +66,7 @@ final class ShapeBoundsTest {
         Check.due(put + " when full", x.state() == 3 ? "" + x.error(0) : Check.outcome(x), want);
         Check.due("shapes", x.total(6), 200);
         Check.due("moves by " + put, x.total(13), want.equals("s1") ? 1 : 0);
-        for (int s = 0; s < 200; s += 1) {
+        for (int s = 0; s < 200; s++) {
             boolean obsolete = want.equals("s1") && s == 4;
             Check.due("heir of " + s, x.shape(s, 2), obsolete ? 2 : NONE);
         }
@@ -123,7 +123,8 @@ final class ShapeBoundsTest {
             Trees x = Check.ran("function main(){o=new();o.p=" + values[i] + ";}");
             Check.due("sort by " + values[i], x.shape(1, 1), i < 3 ? 1 : 3);
             // The same PROPERTY, PARENT and SORT: the same SHAPE.
-            x = Check.ran("function main(){o=new();o.p=" + values[i] + ";o=new();o.p=" + values[i] + ";o.p=" + values[i] + ";}");
+            String put = "o.p=" + values[i] + ";";
+            x = Check.ran("function main(){o=new();" + put + "o=new();" + put + put + "}");
             Check.due("shapes by " + values[i], x.total(6), 2);
         }
         Trees x = Check.ran("function main(){o=new();o.p=1;o=new();o.p=null;o=new();o.q=1;o=new();o.pp=1;}");

@@ -284,7 +284,8 @@ final class TreeBoundsTest {
         Check.due("error", great.error(0), 8);
         Check.due("state of the string's +", great.node(4, great.error(2), 2), 0);
         for (String last : new String[] {"\"\"+\"\"", "x+1", "x-1", "x*1", "x/1"}) {
-            Trees full = ran("x=9223372036854775808;i=0;while(i<1000){x" + Check.times("+0", 25) + ";i=i+1;}" + last + ";", 0, 0);
+            Trees full = ran("x=9223372036854775808;i=0;while(i<1000){x" + Check.times("+0", 25) + ";i=i+1;}" + last + ";",
+                    0, 0);
             Check.due("error of " + last, full.error(0), 9);
             Check.due("state of " + last, full.node(4, full.error(2), 2), 0);
             Check.due("changes of " + last, full.node(4, full.error(2), 3), 0);
@@ -335,7 +336,8 @@ final class TreeBoundsTest {
 
     /** "at most .. 2 of CALL; or STATE 1: OPEN, and no ENTRIES"; "if there is no place for it the NODE becomes OPEN". */
     private static void twoEntriesOfCall() {
-        Trees x = Check.loaded(100, "function main(a,b){f=kind;if(a==1){f=g;}if(a==2){f=h;}f();}function g(){}function h(){}");
+        Trees x = Check.loaded(100, "function main(a,b){f=kind;if(a==1){f=g;}if(a==2){f=h;}f();}"
+                + "function g(){}function h(){}");
         // 2 f 3, 4 IF .. 9, 10 IF .. 15, 16 CALL 17
         entries(x, 16, 0, 0);
         runs(x, 0, 0);
