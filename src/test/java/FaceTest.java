@@ -11,6 +11,7 @@ final class FaceTest {
 
     public static void main(String[] args) {
         members();
+        readme();
         newObject();
         totals();
         anyCallsAtAll();
@@ -38,6 +39,22 @@ final class FaceTest {
         Constructor<?>[] constructors = GraftTrees.class.getDeclaredConstructors();
         Check.due("constructors", constructors.length, 1);
         Check.due("NONE", NONE, -1);
+    }
+
+    /** What README.md shows answers as README.md says. */
+    private static void readme() {
+        Trees x = new Trees(2);
+        Check.due("feed", x.feed(0x66756e63, 0x74696f6e, 0x206d6169, 0x6e28612c, 0x62297b72), 20);
+        Check.due("feed again", x.feed(0x65747572, 0x6e20612b, 0x623b7d20, 0x20202020, 0x20202020), 40);
+        Check.due("load", x.load(31), 5);
+        Check.due("start", x.start(3, 4), true);
+        Check.due("run", x.run(100), 1);
+        Check.due("state", x.state(), 2);
+        Check.due("result", x.result(0), 55);
+        Check.due("no root is hot yet", x.compile(), NONE);
+        Check.due("start again", x.start(3, 4), true);
+        Check.due("main is hot", x.compile(), 4);
+        Check.due("its code", x.root(4, 3), 0);
     }
 
     private static void newObject() {
